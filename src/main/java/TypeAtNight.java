@@ -1227,13 +1227,13 @@ public final class TypeAtNight {
         }
 
         private int turn(Rule rule, int sort) {
-            rule.things[0] = mood[sort];
-            rule.things[1] = wear[sort];
-            rule.things[2] = letter[sort];
-            rule.things[3] = sortsInBox[box[sort]] - 1;
-            rule.things[4] = moodsInBox[box[sort]] - mood[sort];
-            rule.things[5] = sort;
-            rule.things[6] = night % DAYS_OF_WEEK;
+            rule.things[Rule.MOOD] = mood[sort];
+            rule.things[Rule.WEAR] = wear[sort];
+            rule.things[Rule.LETTER] = letter[sort];
+            rule.things[Rule.OTHERS] = sortsInBox[box[sort]] - 1;
+            rule.things[Rule.OTHERS_MOODS] = moodsInBox[box[sort]] - mood[sort];
+            rule.things[Rule.NUMBER] = sort;
+            rule.things[Rule.NIGHT] = night % DAYS_OF_WEEK;
             return putToMood(rule.value());
         }
     }
@@ -1241,6 +1241,13 @@ public final class TypeAtNight {
     /** THE RULE, turned from a text into steps with the operators behind what they join. */
     private static final class Rule {
         private static final String THINGS = "mwlkbin";
+        private static final int MOOD = 0;
+        private static final int WEAR = 1;
+        private static final int LETTER = 2;
+        private static final int OTHERS = 3;
+        private static final int OTHERS_MOODS = 4;
+        private static final int NUMBER = 5;
+        private static final int NIGHT = 6;
         private static final int MOST_DEPTH = 4;
         private static final int MOST_DIGITS = 3;
         private static final int COMPARISON = 1;
@@ -1255,7 +1262,7 @@ public final class TypeAtNight {
         private final int[] steps = new int[MOST_SIGNS_OF_RULE];
         private final int[] stack = new int[MOST_SIGNS_OF_RULE];
         private int size = 0;
-        private boolean night = false;
+        private boolean hasNight = false;
         private int at = 0;
         private int end = 0;
 
@@ -1264,13 +1271,13 @@ public final class TypeAtNight {
         }
 
         boolean looksAtNight() {
-            return night;
+            return hasNight;
         }
 
         /** The place of the first sign that can't stand there, NONE if the text is a rule. */
         int read(Text text) {
             size = 0;
-            night = false;
+            hasNight = false;
             at = 0;
             end = Math.min(text.size(), MOST_SIGNS_OF_RULE);
             if (end == 0) {
@@ -1285,10 +1292,10 @@ public final class TypeAtNight {
 
         /** (b/k-m)/2 */
         private void putFirstRule() {
-            putThing(4);
-            putThing(3);
+            putThing(OTHERS_MOODS);
+            putThing(OTHERS);
             put(OPERATOR + '/');
-            putThing(0);
+            putThing(MOOD);
             put(OPERATOR + '-');
             put(2);
             put(OPERATOR + '/');
@@ -1303,7 +1310,7 @@ public final class TypeAtNight {
 
         private void putThing(int thing) {
             put(THING + thing);
-            night |= thing == 6;
+            hasNight |= thing == NIGHT;
         }
 
         /** Things joined by operators that bind at least as much as told; false: not at its place. */
@@ -1402,22 +1409,20 @@ public final class TypeAtNight {
                     }
                 } else if (top > 1) {
                     top--;
-                    stack[top - 1] = joined(step - OPERATOR, stack[top - 1], stack[top]);
+                    int left = stack[top - 1];
+                    int right = stack[top];
+                    switch (step - OPERATOR) {
+                        case '+': stack[top - 1] = left + right; break;
+                        case '-': stack[top - 1] = left - right; break;
+                        case '*': stack[top - 1] = left * right; break;
+                        case '/': stack[top - 1] = right == 0 ? 0 : left / right; break;
+                        case '<': stack[top - 1] = left < right ? 1 : 0; break;
+                        case '>': stack[top - 1] = left > right ? 1 : 0; break;
+                        default: stack[top - 1] = left == right ? 1 : 0; break;
+                    }
                 }
             }
             return stack[0];
-        }
-
-        private static int joined(int sign, int left, int right) {
-            switch (sign) {
-                case '+': return left + right;
-                case '-': return left - right;
-                case '*': return left * right;
-                case '/': return right == 0 ? 0 : left / right;
-                case '<': return left < right ? 1 : 0;
-                case '>': return left > right ? 1 : 0;
-                default: return left == right ? 1 : 0;
-            }
         }
     }
 
@@ -1628,14 +1633,13 @@ public final class TypeAtNight {
 
         /** The fewest boxes; place[] is the least row by which they do. */
         int fewest() {
-            int boxes = 1;
-            while (boxes < LETTERS && !placeFrom(0, boxes, 0)) {
-                boxes++;
+            for (int boxes = 1; boxes < LETTERS; boxes++) {
+                if (placeFrom(0, boxes, 0)) {
+                    return boxes;
+                }
             }
-            if (boxes == LETTERS) {
-                placeFrom(0, boxes, 0);
-            }
-            return boxes;
+            placeFrom(0, LETTERS, 0);
+            return LETTERS;
         }
 
         /** Of the boxes not yet used only the first is tried: in the least row it is always that one. */

@@ -30,6 +30,10 @@ public final class BoxesTest {
         Calls.question("parts", FOUR, SIX_APART, parts, 6, 0, 1, 2, 3, 4, 5, 0, 0);
         Calls.question("parts of twenty", FOUR, TWENTY, parts, 6, 0, 1, 2, 3, 4, 5, 2, 3);
         Calls.question("parts", FOUR, "ab;cd;ef;gh", parts, 2, 0, 1, 0, 1, 0, 1, 0, 1);
+        TypeAtNight twice = FOUR.get();
+        Calls.put(twice, SIX_APART).parts();
+        Calls.due("parts once more", Calls.put(twice, "cd").parts(), 2);
+        Calls.row("parts once more", twice, 0, 0, 0, 1, 0, 0, 0, 0);
         Calls.question("parts without SORTS", TypeAtNight::new, "gh", parts, 2, 0, 0, 0, 0, 0, 0, 0, 1);
     }
 

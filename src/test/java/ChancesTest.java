@@ -118,10 +118,16 @@ public final class ChancesTest {
     private static void rests() {
         Calls.promise("41 rests");
         Calls.question("rests(0)", FOUR, x -> x.rests(0), 1, 0, 0);
+        Calls.question("rests(2)", FOUR, x -> x.rests(2), 3, 0, 0);
+        Calls.question("rests(3)", FOUR, x -> x.rests(3), 4, 0, 0);
+        Calls.question("rests(4)", FOUR, x -> x.rests(4), 2, 0, 1);
+        // From 5 on who tells less would tell more, up to where it is best to tell 0 again.
+        for (int v = 5; v <= 20; v++) {
+            int of = v;
+            Calls.question("rests(" + v + ")", FOUR, x -> x.rests(of), 0);
+        }
         // 1 is sold by who tells more, 0 else: to tell 1 against 0 costs what it brings.
         Calls.question("rests(1)", FOUR, x -> x.rests(1), 3, 0, 0);
-        // 20, 10, 13: against 9 it is best to tell 0, against 0 to tell 1, and so on up.
-        Calls.question("rests(20)", FOUR, x -> x.rests(20), 0);
         int[] others = {-1, 21, Integer.MIN_VALUE, Integer.MAX_VALUE};
         for (int v : others) {
             Calls.refused("rests(" + v + ")", FOUR, x -> x.rests(v), -1);
@@ -179,6 +185,8 @@ public final class ChancesTest {
             Calls.put(x, "a").sets(0);
             return x;
         }, x -> x.years(3, 1), 3, 203);
+        Calls.question("years of one", () -> Calls.with("c0+4"), x -> x.years(1, 1), 1, 196);
+        Calls.question("years of one", () -> Calls.with("c0+4"), x -> x.years(3, 1), 0, 204);
         Calls.question("years without SORTS", TypeAtNight::new, x -> x.years(1, 60), 0, 200);
         int[] others = {0, 61, -1, Integer.MIN_VALUE, Integer.MAX_VALUE};
         for (int n : others) {

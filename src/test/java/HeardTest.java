@@ -115,6 +115,10 @@ public final class HeardTest {
             return x;
         }, asks, 36, 2);
         Calls.question("asks of a LETTER", () -> Calls.with("a0+0;g0+9;g0+9;h0+9"), asks, 6, 2);
+        Calls.question("asks of the greatest MOOD", () -> Calls.with("a0+8;a0+9"), asks, 49, 1);
+        Calls.question("asks of the greatest WEAR", () -> Calls.with("a8+0;a9+0"), asks, 19, 1);
+        Calls.question("asks of the last LETTER", () -> Calls.with("h0+0;h0+0;a0+0;b0+0"), asks, 7, 2);
+        Calls.question("asks of twelve like ones", () -> Calls.with("h0+0" + ";h0+0".repeat(11)), asks, 0, 12);
         Calls.question("asks of one", () -> Calls.with("h3+0"), asks, 0, 1);
         Calls.question("asks of like ones", () -> Calls.with("h0+0;h0+0;h0+0"), asks, 0, 3);
         Calls.question("asks of those that fit", hearing(FOUR, 2, 0, 4, 0), asks, 0, 1);

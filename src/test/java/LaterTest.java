@@ -94,6 +94,10 @@ public final class LaterTest {
             return x;
         }, round, 7, 0);
         Calls.question("round by the NIGHT", () -> Calls.with("a0+0", "3-n"), round, 7, 0);
+        Calls.question("round of twelve, the first goes round", () -> Calls.with("a0+4" + ";b0+4".repeat(11), "(i=0)*(-m-m)"),
+                round, 14, 0);
+        Calls.question("round of twelve, the last goes round", () -> Calls.with("a0+4" + ";b0+4".repeat(11), "(i=11)*(-m-m)"),
+                round, 14, 0);
         Calls.question("round behind 99", clock("a0+8;a0-1"), round, 99, 92);
         Calls.refused("round behind 100", clock("a0+7;a0-1"), round, -2);
     }
@@ -144,6 +148,8 @@ public final class LaterTest {
             x.moves(0, 1);
             return x;
         }, x -> x.blows(1, 3), 0, 0);
+        Calls.question("blows(1, 0) of one that goes into another's BOX", standing("a9+9;b0+9", "b", "a"),
+                x -> x.blows(1, 0), 2, 3);
         Supplier<TypeAtNight> twelve = () -> Calls.with("a1+5;a2-7;a3+8;a4-9;a5+1;a6+2;a7+9;a8-3;a9+4;a0-6;a1+7;a2-8");
         Calls.question("blows(20, 0) of twelve", twelve, x -> x.blows(20, 0), 12, 4095);
         Calls.question("blows(20, 3) of twelve", twelve, x -> x.blows(20, 3), 0, 0);

@@ -108,6 +108,11 @@ public final class NightsTest {
         same(up, 2, 19, 10);
         up.nights(1);
         same(up, 2, 19, 19);
+        TypeAtNight one = Calls.with("a0+4;a0-2");
+        one.nights(1);
+        Calls.due("nights(1) is kept", one.count(8), 1);
+        one.undo();
+        same(one, 2, 14, 8);
         TypeAtNight zero = Calls.with("a0+4;a0-2");
         zero.moves(0, 1);
         Calls.due("nights(0)", zero.nights(0), 1);
@@ -239,6 +244,10 @@ public final class NightsTest {
         Calls.row("c and C, f and F", letters, 0, 2);
         same(letters, 2, 10, 12);
         same(letters, 1, 1, 0);
+        Calls.due("numbers of two digits, BOX 7", Calls.put(twelve, "N1M107C11M090M110").week(), 3);
+        Calls.row("numbers of two digits, BOX 7", twelve, 1, 0);
+        Calls.due("BOX of 10", twelve.sort(10, 3), 7);
+        Calls.due("MOOD of 11", twelve.sort(11, 2), 10);
         TypeAtNight nine = Calls.with("a0+0", "1");
         Calls.due("week of sixty signs", Calls.put(nine, "N1".repeat(30)).week(), 30);
         Calls.due("NIGHT", nine.count(1), 30);

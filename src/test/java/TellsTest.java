@@ -102,6 +102,10 @@ public final class TellsTest {
                 x -> x.bears(108), 1, 4095);
         Calls.question("bears(-108)", () -> Calls.with("a0-9" + ";a0-9".repeat(11)), "a".repeat(12),
                 x -> x.bears(-108), 1, 4095);
+        TypeAtNight twice = SIX.get();
+        Calls.put(twice, "aab").bears(0);
+        Calls.due("bears(3) once more", Calls.put(twice, "a").bears(3), 1);
+        Calls.row("bears(3) once more", twice, 4);
         Calls.question("bears(0) without SORTS", TypeAtNight::new, "a", x -> x.bears(0), 0);
         Calls.refused("bears(109)", SIX, "a", x -> x.bears(109), -100);
         Calls.refused("bears(-109)", SIX, "a", x -> x.bears(-109), -100);
@@ -141,6 +145,12 @@ public final class TellsTest {
         Calls.question("packs of a word too long", FOUR, "a".repeat(13) + ";b", packs, 1, 2);
         Calls.question("packs of 60 signs", TWELVE, "a".repeat(60), packs, 0, 0);
         Calls.question("packs of eight", TWELVE, "a;aa;aaa;aaa;aa;aaaa;a;a", packs, 6, 95);
+        TypeAtNight twice = FOUR.get();
+        Calls.put(twice, "aa;b;c").packs();
+        Calls.due("packs once more", Calls.put(twice, "a;a;b").packs(), 3);
+        Calls.row("packs once more", twice, 7);
+        Calls.put(twice, "aax").packs();
+        Calls.due("packs behind a refused one", Calls.put(twice, "b;d").packs(), 1);
         Calls.question("packs without SORTS", TypeAtNight::new, "a;b", packs, 0, 0);
     }
 
