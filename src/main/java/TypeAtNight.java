@@ -34,8 +34,11 @@ public final class TypeAtNight {
     private static final int MOODS_TOLD = 200;
 
     private static final int NO_SUCH = -2;
+    private static final int STANDING = -2;
+    private static final int NOUGHT_ALREADY = -2;
     private static final int THERE_ALREADY = -3;
-    private static final int MISSING_SHEET = -3;
+    private static final int SHEET_BELOW_NONE = -2;
+    private static final int SHEET_MISSING = -3;
     private static final int WRONG_VALUE = -100;
     private static final int TOO_FEW_SORTS = -101;
     private static final int WRONG_LAW = -10000;
@@ -124,10 +127,10 @@ public final class TypeAtNight {
         }
         if (kind == 3) {
             Arrays.fill(now.wear, 0);
-            return MISSING_SHEET;
+            return SHEET_MISSING;
         }
         if (n < 0) {
-            return NO_SUCH;
+            return SHEET_BELOW_NONE;
         }
         for (int sort = 0; sort < now.size; sort++) {
             int entry = sort < n ? entryOf(kind, f + sort * step) : 0;
@@ -1029,11 +1032,7 @@ public final class TypeAtNight {
         }
 
         int ofLetter(int told) {
-            int set = 0;
-            for (int sort = 0; sort < size; sort++) {
-                set |= letter[sort] == told ? 1 << sort : 0;
-            }
-            return set;
+            return whose(letter, told);
         }
 
         int freeOf(int told) {
@@ -1041,9 +1040,14 @@ public final class TypeAtNight {
         }
 
         int inBox(int told) {
+            return whose(box, told);
+        }
+
+        /** The sorts (bits) for which such a number is the told one. */
+        private int whose(int[] numbers, int told) {
             int set = 0;
-            for (int sort = 0; sort < size; sort++) {
-                set |= box[sort] == told ? 1 << sort : 0;
+            for (int sort = 0; sort < size && sort < numbers.length; sort++) {
+                set |= numbers[sort] == told ? 1 << sort : 0;
             }
             return set;
         }
@@ -1146,7 +1150,7 @@ public final class TypeAtNight {
                 return NONE;
             }
             if ((standing >> sort & 1) == 1) {
-                return NO_SUCH;
+                return STANDING;
             }
             if (box[sort] == to) {
                 return THERE_ALREADY;
@@ -1162,7 +1166,7 @@ public final class TypeAtNight {
             }
             int had = mood[sort];
             mood[sort] = 0;
-            return had == 0 ? NO_SUCH : MOOD_TOLD + had;
+            return had == 0 ? NOUGHT_ALREADY : MOOD_TOLD + had;
         }
 
         int castAnew(int sort) {
@@ -1171,7 +1175,7 @@ public final class TypeAtNight {
             }
             int had = wear[sort];
             wear[sort] = 0;
-            return had == 0 ? NO_SUCH : had;
+            return had == 0 ? NOUGHT_ALREADY : had;
         }
 
         void distribute() {

@@ -118,6 +118,17 @@ final class Calls {
         return state.append("ROW").append(rowOf(x)).toString();
     }
 
+    /** What undo() brings back: NIGHT and all of SORTS. */
+    static String undoable(TypeAtNight x) {
+        StringBuilder state = new StringBuilder().append(x.count(1)).append(':');
+        for (int sort = 0; sort < x.count(0); sort++) {
+            for (int what = 0; what <= 4; what++) {
+                state.append(x.sort(sort, what)).append(' ');
+            }
+        }
+        return state.toString();
+    }
+
     /** A long ROW: two numbers and one of each SORT, so that a call that spoils it is seen. */
     static void mark(TypeAtNight x) {
         put(x, "").law();

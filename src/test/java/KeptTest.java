@@ -34,28 +34,18 @@ public final class KeptTest {
         Calls.due("the later one is kept", x.count(1), 3);
     }
 
-    private static String seen(TypeAtNight x) {
-        StringBuilder state = new StringBuilder().append(x.count(1)).append(':');
-        for (int sort = 0; sort < x.count(0); sort++) {
-            for (int what = 0; what <= 4; what++) {
-                state.append(x.sort(sort, what)).append(' ');
-            }
-        }
-        return state.toString();
-    }
-
     private static void again() {
         Calls.promise("45 again");
         TypeAtNight x = FOUR.get();
         x.nights(2);
         Calls.put(x, "ac").sets(3);
         x.moves(1, 6);
-        String first = seen(x);
+        String first = Calls.undoable(x);
         x.keep(1);
         x.nights(4);
         x.casts(3);
         x.cleans(0);
-        String second = seen(x);
+        String second = Calls.undoable(x);
         x.keep(0);
         Calls.put(x, "abc").sets(-9);
         x.heard(0, 1);
@@ -63,17 +53,17 @@ public final class KeptTest {
         Calls.mark(x);
         String row = Calls.rowOf(x);
         Calls.due("again(1)", x.again(1), true);
-        Calls.due("as it was kept under 1", seen(x), first);
+        Calls.due("as it was kept under 1", Calls.undoable(x), first);
         Calls.due("nothing can be undone", x.count(8), 0);
         Calls.due("undo", x.undo(), -1);
         Calls.due("the ROW stays", Calls.rowOf(x), row);
         Calls.due("what was heard stays", x.count(6), 1);
         Calls.due("THE RULE stays", x.sort(0, 5), 13);
         Calls.due("again(0)", x.again(0), true);
-        Calls.due("as it was kept under 0", seen(x), second);
+        Calls.due("as it was kept under 0", Calls.undoable(x), second);
         x.nights(1);
         Calls.due("again(0), once more", x.again(0), true);
-        Calls.due("as it was kept under 0", seen(x), second);
+        Calls.due("as it was kept under 0", Calls.undoable(x), second);
     }
 
     private static void againRefused() {

@@ -306,13 +306,13 @@ public final class NightsTest {
         TypeAtNight x = Calls.with(FOUR);
         String[] states = new String[7];
         for (int j = 0; j < 6; j++) {
-            states[j] = seen(x);
+            states[j] = Calls.undoable(x);
             act(x, j);
         }
         Calls.due("what can be undone", x.count(8), 6);
         for (int j = 5; j >= 0; j--) {
             Calls.due("undo of " + j, x.undo(), j);
-            Calls.due("state behind undo of " + j, seen(x), states[j]);
+            Calls.due("state behind undo of " + j, Calls.undoable(x), states[j]);
         }
         Calls.refused("undo of none", () -> Calls.with(FOUR), TypeAtNight::undo, -1);
     }
@@ -326,17 +326,6 @@ public final class NightsTest {
             case 4: x.casts(3); break;
             default: Calls.put(x, "S-2bN3S+9a").week(); break;
         }
-    }
-
-    /** NIGHT and all of SORTS. */
-    private static String seen(TypeAtNight x) {
-        StringBuilder state = new StringBuilder().append(x.count(1)).append(':');
-        for (int sort = 0; sort < x.count(0); sort++) {
-            for (int what = 0; what <= 4; what++) {
-                state.append(x.sort(sort, what)).append(' ');
-            }
-        }
-        return state.toString();
     }
 
     private static void undoOfTwelve() {
