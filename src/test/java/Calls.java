@@ -1,5 +1,6 @@
 import java.util.NoSuchElementException;
 import java.util.function.Supplier;
+import java.util.function.ToIntBiFunction;
 import java.util.function.ToIntFunction;
 
 /** What the tests share: texts put by signs, answers compared, and all of an object's state as one text. */
@@ -100,6 +101,37 @@ final class Calls {
         TypeAtNight x = with(sorts);
         put(x, rule).rule();
         return x;
+    }
+
+    /** The object, with a text set in it. */
+    static TypeAtNight set(TypeAtNight x, String text, int feeling) {
+        put(x, text).sets(feeling);
+        return x;
+    }
+
+    /** Of all SORTS the same thing: LETTER, WEAR, .., as sort() tells it. */
+    static void each(String call, TypeAtNight x, int what, long... want) {
+        for (int sort = 0; sort < want.length; sort++) {
+            due(call + ": sort(" + sort + ", " + what + ")", x.sort(sort, what), want[sort]);
+        }
+    }
+
+    /** Texts and the places of their signs that can't stand there: the answer is as far below the first one. */
+    static void faults(String call, Supplier<TypeAtNight> made, ToIntFunction<TypeAtNight> asked, long first,
+            Object... textsAndPlaces) {
+        for (int j = 0; j + 1 < textsAndPlaces.length; j += 2) {
+            long place = ((Integer) textsAndPlaces[j + 1]).longValue();
+            refused(call, made, (String) textsAndPlaces[j], asked, first - place);
+        }
+    }
+
+    /** Numbers beside a range and far from it, for each of which a call is refused in the same way. */
+    static void others(String call, Supplier<TypeAtNight> made, String text,
+            ToIntBiFunction<TypeAtNight, Integer> asked, int least, int most, long want) {
+        int[] numbers = {least - 1, most + 1, Integer.MIN_VALUE, Integer.MAX_VALUE};
+        for (int number : numbers) {
+            refused(call + " with " + number, made, text, x -> asked.applyAsInt(x, number), want);
+        }
     }
 
     /** All that can be seen of SORTS, NIGHT, what was heard and seen, and what can be undone; not THE TEXT. */
