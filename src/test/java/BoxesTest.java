@@ -51,28 +51,18 @@ public final class BoxesTest {
         }
     }
 
-    private static Supplier<TypeAtNight> moved(Supplier<TypeAtNight> made, int... sortsAndBoxes) {
-        return () -> {
-            TypeAtNight x = made.get();
-            for (int j = 0; j + 1 < sortsAndBoxes.length; j += 2) {
-                x.moves(sortsAndBoxes[j], sortsAndBoxes[j + 1]);
-            }
-            return x;
-        };
-    }
-
     private static void mixed() {
         Calls.promise("28 mixed");
         ToIntFunction<TypeAtNight> mixed = TypeAtNight::mixed;
         Calls.question("mixed", FOUR, mixed, 0, 0);
         Calls.question("mixed without SORTS", TypeAtNight::new, mixed, 0, 0);
-        Calls.question("mixed, b with a", moved(FOUR, 2, 0), mixed, 1, 1);
-        Calls.question("mixed, changed", moved(FOUR, 2, 0, 0, 1), mixed, 2, 1);
-        Calls.question("mixed, alone elsewhere", moved(FOUR, 0, 7), mixed, 1, 0);
-        Calls.question("mixed, two of one LETTER elsewhere", moved(FOUR, 0, 7, 1, 7), mixed, 2, 0);
-        Calls.question("mixed, three in BOX 7", moved(FOUR, 0, 7, 2, 7, 3, 7), mixed, 3, 128);
+        Calls.question("mixed, b with a", Calls.moved(FOUR, 2, 0), mixed, 1, 1);
+        Calls.question("mixed, changed", Calls.moved(FOUR, 2, 0, 0, 1), mixed, 2, 1);
+        Calls.question("mixed, alone elsewhere", Calls.moved(FOUR, 0, 7), mixed, 1, 0);
+        Calls.question("mixed, two of one LETTER elsewhere", Calls.moved(FOUR, 0, 7, 1, 7), mixed, 2, 0);
+        Calls.question("mixed, three in BOX 7", Calls.moved(FOUR, 0, 7, 2, 7, 3, 7), mixed, 3, 128);
         Calls.question("mixed, one STANDING", () -> {
-            TypeAtNight x = moved(FOUR, 2, 0).get();
+            TypeAtNight x = Calls.moved(FOUR, 2, 0).get();
             Calls.put(x, "b").sets(0);
             return x;
         }, mixed, 1, 1);
@@ -83,8 +73,8 @@ public final class BoxesTest {
         ToIntFunction<TypeAtNight> rubs = TypeAtNight::rubs;
         Supplier<TypeAtNight> five = () -> Calls.with("a0+1;a0+9;b0-9;b0-1;a0+1");
         Calls.question("rubs", five, rubs, 8, 0, 1);
-        Calls.question("rubs, moved", moved(five, 2, 0), rubs, 18, 1, 2);
-        Calls.question("rubs, moved", moved(five, 1, 7), rubs, 8, 2, 3);
+        Calls.question("rubs, moved", Calls.moved(five, 2, 0), rubs, 18, 1, 2);
+        Calls.question("rubs, moved", Calls.moved(five, 1, 7), rubs, 8, 2, 3);
         Calls.question("rubs of like ones", () -> Calls.with("b0+2;a0+1;a0+1"), rubs, 0, 1, 2);
         Calls.question("rubs of one that is STANDING", () -> {
             TypeAtNight x = Calls.with("a0+1;a0-3");

@@ -109,6 +109,39 @@ final class Calls {
         return x;
     }
 
+    /** The object, with SORTS moved: a SORT, a BOX, a SORT, a BOX, .. */
+    static Supplier<TypeAtNight> moved(Supplier<TypeAtNight> made, int... sortsAndBoxes) {
+        return () -> {
+            TypeAtNight x = made.get();
+            for (int j = 0; j + 1 < sortsAndBoxes.length; j += 2) {
+                x.moves(sortsAndBoxes[j], sortsAndBoxes[j + 1]);
+            }
+            return x;
+        };
+    }
+
+    /** The object, with things heard: what, v, what, v, .. */
+    static Supplier<TypeAtNight> hearing(Supplier<TypeAtNight> made, int... whatsAndValues) {
+        return () -> {
+            TypeAtNight x = made.get();
+            for (int j = 0; j + 1 < whatsAndValues.length; j += 2) {
+                x.heard(whatsAndValues[j], whatsAndValues[j + 1]);
+            }
+            return x;
+        };
+    }
+
+    /** The object, with things seen: m, c, u, m, c, u, .. */
+    static Supplier<TypeAtNight> seeing(Supplier<TypeAtNight> made, int... moods) {
+        return () -> {
+            TypeAtNight x = made.get();
+            for (int j = 0; j + 2 < moods.length; j += 3) {
+                x.saw(moods[j], moods[j + 1], moods[j + 2]);
+            }
+            return x;
+        };
+    }
+
     /** Of all SORTS the same thing: LETTER, WEAR, .., as sort() tells it. */
     static void each(String call, TypeAtNight x, int what, long... want) {
         for (int sort = 0; sort < want.length; sort++) {

@@ -13,10 +13,9 @@ final class Edges {
     private static final Path DOCUMENT = Path.of("../shared/DOC.md");
 
     /** Words by which the document names an edge: ranges, answers below 0, refusals, what is empty or full, ties. */
-    private static final Pattern NAMED = Pattern.compile("\\.\\.|-\\d|\\bNONE\\b|[Rr]efused|NoSuchElementException"
-            + "|\\bat most\\b|\\bat least\\b|\\bempty\\b|\\bwithout\\b|\\bmissing\\b|\\b[Nn]one\\b|too early|\\babove\\b"
-            + "|\\bbelow\\b|\\bmore than\\b|like ones|equal ones|\\bof as\\b|as far ones|\\bput to\\b|\\bcut\\b|\\bcan't\\b"
-            + "|\\bby 0\\b|\\bNothing\\b|\\bnothing\\b|\\bNo SORTS\\b|\\bstays\\b|\\b1 to\\b|\\bbehind 7\\b");
+    private static final Pattern NAMED = Pattern.compile("\\.\\.|-\\d|\\b(NONE|[Rr]efused|NoSuchElementException|at most"
+            + "|at least|empty|without|missing|[Nn]one|too early|above|below|more than|like ones|equal ones|of as|as far"
+            + "|put to|cut|can't|by 0|[Nn]othing|No SORTS|stays|1 to|behind 7)\\b");
 
     private final Map<String, String> sections = new LinkedHashMap<>();
     private final Map<String, boolean[]> quoted = new LinkedHashMap<>();
@@ -64,8 +63,8 @@ final class Edges {
             String text = sections.get(name);
             Matcher named = NAMED.matcher(text);
             while (named.find()) {
-                String round = text.substring(Math.max(0, named.start() - 30), Math.min(text.length(), named.end() + 30));
-                Calls.due("a test quotes \"" + round + "\"", quoted.get(name)[named.start()], true);
+                String from = text.substring(named.start(), Math.min(text.length(), named.end() + 40));
+                Calls.due("a test quotes \"" + from + "\"", quoted.get(name)[named.start()], true);
             }
         }
         Calls.promise("the document");

@@ -25,8 +25,8 @@ final class EdgesOfBoxes {
     }
 
     private static void pairs(Edges doc) {
-        doc.promise(27, "THE TEXT tells pairs of letters a .. h (not alike), ; between (at most 20, 59 signs), that are not to be in one "
-                + "BOX");
+        doc.promise(27, "THE TEXT tells pairs of letters a .. h (not alike), ; between (at most 20, 59 signs), that "
+                + "are not to be in one BOX");
         Calls.due("signs of twenty", TWENTY.length(), 59);
         Calls.question("parts of twenty", FOUR, TWENTY, PARTS, 6, 0, 1, 2, 3, 4, 5, 2, 3);
         Calls.question("parts of twenty like ones", FOUR, "ab" + ";ba".repeat(19), PARTS, 2, 0, 1, 0, 0, 0, 0, 0, 0);
@@ -35,7 +35,8 @@ final class EdgesOfBoxes {
     }
 
     private static void noPairs(Edges doc) {
-        doc.promise(27, "(an empty one: no pairs): the fewest BOXES, at least 1, that all eight LETTERS need: how many");
+        doc.promise(27, "(an empty one: no pairs): the fewest BOXES, at least 1, that all eight LETTERS need: how "
+                + "many");
         Calls.question("parts of none", FOUR, "", PARTS, 1, 0, 0, 0, 0, 0, 0, 0, 0);
         Calls.question("parts of none, without SORTS", TypeAtNight::new, "", PARTS, 1, 0, 0, 0, 0, 0, 0, 0, 0);
         TypeAtNight x = FOUR.get();
@@ -48,16 +49,17 @@ final class EdgesOfBoxes {
         Calls.question("parts: not the first that does", FOUR, "ac;cd;db", PARTS, 2, 0, 1, 1, 0, 0, 0, 0, 0);
         Calls.question("parts: the last comes as low as it can", FOUR, "ab;ah;gh", PARTS, 2, 0, 1, 0, 0, 0, 0, 0, 1);
         Calls.question("parts: a round of five", FOUR, "ab;bc;cd;de;ea", PARTS, 3, 0, 1, 0, 1, 2, 0, 0, 0);
-        Calls.question("parts: a round of all eight", FOUR, "ab;bc;cd;de;ef;fg;gh;ha", PARTS, 2, 0, 1, 0, 1, 0, 1, 0, 1);
+        Calls.question("parts: a round of all eight", FOUR, "ab;bc;cd;de;ef;fg;gh;ha", PARTS, 2, 0, 1, 0, 1, 0, 1, 0,
+                1);
     }
 
     private static void pairsThatCantStand(Edges doc) {
-        doc.promise(27, "-1 - p: the sign at p can't stand there (its end, if it ends too early; the second letter, if it is the first; "
-                + "59, if it has more and the first 59 could go on or end).");
-        Calls.faults("parts that ends too early", FOUR, PARTS, -1, "a", 1, "ab;", 3, "ab;c", 4, TWENTY.substring(0, 57), 57,
-                TWENTY.substring(0, 58), 58);
-        Calls.faults("parts", FOUR, PARTS, -1, "i", 0, "`", 0, ";", 0, "0", 0, "ai", 1, "a`", 1, "a;", 1, "aB", 1, "abc", 2, "ab,cd", 2,
-                "ab;;", 3, "ab; cd", 3);
+        doc.promise(27, "-1 - p: the sign at p can't stand there (its end, if it ends too early; the second letter, "
+                + "if it is the first; 59, if it has more and the first 59 could go on or end).");
+        Calls.faults("parts that ends too early", FOUR, PARTS, -1, "a", 1, "ab;", 3, "ab;c", 4,
+                TWENTY.substring(0, 57), 57, TWENTY.substring(0, 58), 58);
+        Calls.faults("parts", FOUR, PARTS, -1, "i", 0, "`", 0, ";", 0, "0", 0, "ai", 1, "a`", 1, "a;", 1, "aB", 1,
+                "abc", 2, "ab,cd", 2, "ab;;", 3, "ab; cd", 3);
         Calls.faults("parts of like letters", FOUR, PARTS, -1, "aa", 1, "hh", 1, "ab;cc", 4, "ab;cc;x", 4,
                 TWENTY.substring(0, 58) + "g", 58, TWENTY.substring(0, 58) + "g;", 58);
         Calls.faults("parts of more than 59", FOUR, PARTS, -1, TWENTY + ";", 59, TWENTY + "x", 59, TWENTY + "a", 59,
@@ -66,25 +68,15 @@ final class EdgesOfBoxes {
                 TWENTY.substring(0, 57) + "x;;", 57, "aa;" + TWENTY, 1);
     }
 
-    private static Supplier<TypeAtNight> moved(Supplier<TypeAtNight> made, int... sortsAndBoxes) {
-        return () -> {
-            TypeAtNight x = made.get();
-            for (int j = 0; j + 1 < sortsAndBoxes.length; j += 2) {
-                x.moves(sortsAndBoxes[j], sortsAndBoxes[j + 1]);
-            }
-            return x;
-        };
-    }
-
     private static void mixed(Edges doc) {
-        doc.promise(28, "How many SORTS are not in the BOX of their LETTER: how many; the ROW: BOXES (bits) in which there are SORTS of "
-                + "more than one LETTER.");
+        doc.promise(28, "How many SORTS are not in the BOX of their LETTER: how many; the ROW: BOXES (bits) in which "
+                + "there are SORTS of more than one LETTER.");
         ToIntFunction<TypeAtNight> mixed = TypeAtNight::mixed;
         Calls.question("mixed without SORTS", TypeAtNight::new, mixed, 0, 0);
         Calls.question("mixed, none", FOUR, mixed, 0, 0);
-        Calls.question("mixed, one LETTER elsewhere", moved(FOUR, 0, 7, 1, 7), mixed, 2, 0);
-        Calls.question("mixed in the last BOX", moved(FOUR, 0, 7, 2, 7), mixed, 2, 128);
-        Calls.question("mixed in the first BOX", moved(FOUR, 3, 0), mixed, 1, 1);
+        Calls.question("mixed, one LETTER elsewhere", Calls.moved(FOUR, 0, 7, 1, 7), mixed, 2, 0);
+        Calls.question("mixed in the last BOX", Calls.moved(FOUR, 0, 7, 2, 7), mixed, 2, 128);
+        Calls.question("mixed in the first BOX", Calls.moved(FOUR, 3, 0), mixed, 1, 1);
         Calls.question("mixed, all of twelve", () -> {
             TypeAtNight x = Calls.with("h0+0" + ";a0+0;b0+0".repeat(5) + ";g0+0");
             for (int sort = 0; sort < 12; sort++) {
@@ -95,27 +87,31 @@ final class EdgesOfBoxes {
     }
 
     private static void rubs(Edges doc) {
-        doc.promise(29, "how far; the ROW: the two, the lesser first (of as far ones the least row). -2: no two are in one BOX.");
+        doc.promise(29, "how far; the ROW: the two, the lesser first (of as far ones the least row). -2: no two are "
+                + "in one BOX.");
         ToIntFunction<TypeAtNight> rubs = TypeAtNight::rubs;
         Calls.question("rubs, as far as can be", () -> Calls.with("a0-9;a0+9"), rubs, 18, 0, 1);
         Calls.question("rubs of like ones", () -> Calls.with("b0+2;a0+1;a0+1"), rubs, 0, 1, 2);
         Calls.question("rubs, the greater MOOD first or last", () -> Calls.with("a0+3;b0+1;b0-2;a0+0"), rubs, 3, 0, 3);
         Calls.question("rubs of twelve like ones", () -> Calls.with("a0+0" + ";a0+0".repeat(11)), rubs, 0, 0, 1);
-        Calls.question("rubs of the last of twelve", () -> Calls.with("a0+0" + ";a0+0".repeat(9) + ";a0-5;a0+5"), rubs, 10, 10, 11);
+        Calls.question("rubs of the last of twelve", () -> Calls.with("a0+0" + ";a0+0".repeat(9) + ";a0-5;a0+5"), rubs,
+                10, 10, 11);
         Calls.refused("rubs without SORTS", TypeAtNight::new, rubs, -2);
         Calls.refused("rubs of one", () -> Calls.with("a0+9"), rubs, -2);
         Calls.refused("rubs of one in each BOX", () -> Calls.with("a0+9;b0-9;h0+0"), rubs, -2);
-        Calls.refused("rubs of one LETTER in two BOXES", moved(() -> Calls.with("a0+9;a0-9"), 1, 7), rubs, -2);
+        Calls.refused("rubs of one LETTER in two BOXES", Calls.moved(() -> Calls.with("a0+9;a0-9"), 1, 7), rubs, -2);
     }
 
     private static void chordOfRange(Edges doc) {
-        doc.promise(30, "The most SORTS that are not STANDING, no two of one LETTER, whose MOODS together are just v (-72 .. 72): how many");
+        doc.promise(30, "The most SORTS that are not STANDING, no two of one LETTER, whose MOODS together are just v "
+                + "(-72 .. 72): how many");
         String high = "a0+9;b0+9;c0+9;d0+9;e0+9;f0+9;g0+9;h0+9";
         Calls.question("chord(72)", () -> Calls.with(high + ";a0+9"), x -> x.chord(72), 8, 255);
         Calls.question("chord(-72)", () -> Calls.with(high.replace('+', '-') + ";a0-9"), x -> x.chord(-72), 8, 255);
         Calls.question("chord(63)", () -> Calls.with(high), x -> x.chord(63), 7, 127);
         Calls.refused("chord(72), one is STANDING", () -> Calls.set(Calls.with(high), "h", 0), x -> x.chord(72), -2);
-        Calls.question("chord(63), one is STANDING", () -> Calls.set(Calls.with(high), "a", 0), x -> x.chord(63), 7, 254);
+        Calls.question("chord(63), one is STANDING", () -> Calls.set(Calls.with(high), "a", 0), x -> x.chord(63), 7,
+                254);
         Calls.question("chord(0) of twelve", () -> Calls.with("a0+0" + ";a0+0".repeat(11)), x -> x.chord(0), 1, 1);
     }
 
@@ -130,7 +126,8 @@ final class EdgesOfBoxes {
         doc.promise(30, "(No SORTS at all are one set, of 0.)");
         Calls.question("chord(0) without SORTS", TypeAtNight::new, x -> x.chord(0), 0, 0);
         Calls.question("chord(0), none of MOOD 0", () -> Calls.with("a0+1;b0+2"), x -> x.chord(0), 0, 0);
-        Calls.question("chord(0), all are STANDING", () -> Calls.set(Calls.with("a0+0"), "a", 0), x -> x.chord(0), 0, 0);
+        Calls.question("chord(0), all are STANDING", () -> Calls.set(Calls.with("a0+0"), "a", 0), x -> x.chord(0), 0,
+                0);
     }
 
     private static void chordRefused(Edges doc) {
@@ -141,6 +138,7 @@ final class EdgesOfBoxes {
             Calls.refused("chord(" + v + ") without SORTS", TypeAtNight::new, x -> x.chord(v), -2);
         }
         Calls.refused("chord(5)", FOUR, x -> x.chord(5), -2);
-        Calls.refused("chord(1), that one is STANDING", () -> Calls.set(Calls.with("a0+1"), "a", 0), x -> x.chord(1), -2);
+        Calls.refused("chord(1), that one is STANDING", () -> Calls.set(Calls.with("a0+1"), "a", 0), x -> x.chord(1),
+                -2);
     }
 }

@@ -29,19 +29,9 @@ final class EdgesOfHeard {
         looksOfNone(doc);
     }
 
-    private static Supplier<TypeAtNight> hearing(Supplier<TypeAtNight> made, int... whatsAndValues) {
-        return () -> {
-            TypeAtNight x = made.get();
-            for (int j = 0; j + 1 < whatsAndValues.length; j += 2) {
-                x.heard(whatsAndValues[j], whatsAndValues[j + 1]);
-            }
-            return x;
-        };
-    }
-
     private static void heard(Edges doc) {
-        doc.promise(31, "what 0: LETTER is v (0 .. 7); 1: WEAR is v (0 .. 9) or more; 2: it is STANDING (1) or not (0); 3: its BOX is v "
-                + "(0 .. 7); 4: MOOD is v (0 .. 9) or more: how many such.");
+        doc.promise(31, "what 0: LETTER is v (0 .. 7); 1: WEAR is v (0 .. 9) or more; 2: it is STANDING (1) or not "
+                + "(0); 3: its BOX is v (0 .. 7); 4: MOOD is v (0 .. 9) or more: how many such.");
         int[] most = {7, 9, 1, 7, 9};
         for (int what = 0; what <= 4; what++) {
             TypeAtNight x = FOUR.get();
@@ -68,7 +58,7 @@ final class EdgesOfHeard {
     }
 
     private static void fitting(String what, long want, int... heard) {
-        Calls.question("fits " + what, hearing(FOUR, heard), TypeAtNight::fits, want, Long.bitCount(want));
+        Calls.question("fits " + what, Calls.hearing(FOUR, heard), TypeAtNight::fits, want, Long.bitCount(want));
     }
 
     private static void heardRefused(Edges doc) {
@@ -87,7 +77,7 @@ final class EdgesOfHeard {
 
     private static void forget(Edges doc) {
         doc.promise(32, "It is forgotten: how many there were.");
-        TypeAtNight x = hearing(FOUR, 0, 7).get();
+        TypeAtNight x = Calls.hearing(FOUR, 0, 7).get();
         Calls.due("forget of one", x.forget(), 1);
         Calls.due("forget of none", x.forget(), 0);
         Calls.due("what was heard", x.count(6), 0);
@@ -102,7 +92,7 @@ final class EdgesOfHeard {
         fitting("neither", 0, 2, 0, 2, 1);
         Calls.question("fits without SORTS", TypeAtNight::new, TypeAtNight::fits, 0, 0);
         Calls.question("fits of twelve", () -> Calls.with("a0+0" + ";a0+0".repeat(11)), TypeAtNight::fits, 4095, 12);
-        TypeAtNight x = hearing(FOUR, 2, 1).get();
+        TypeAtNight x = Calls.hearing(FOUR, 2, 1).get();
         x.nights(1);
         Calls.due("now none is STANDING", x.fits(), 0);
         x.undo();
@@ -110,8 +100,8 @@ final class EdgesOfHeard {
     }
 
     private static void asks(Edges doc) {
-        doc.promise(34, "the fewest such SORTS are left at most: 10 times what and v, as they may be heard, of equal ones the least: it; "
-                + "the ROW: how many at most.");
+        doc.promise(34, "the fewest such SORTS are left at most: 10 times what and v, as they may be heard, of equal "
+                + "ones the least: it; the ROW: how many at most.");
         ToIntFunction<TypeAtNight> asks = TypeAtNight::asks;
         Calls.question("asks of one", () -> Calls.with("h3+0"), asks, 0, 1);
         Calls.question("asks of twelve like ones", () -> Calls.with("h0+0" + ";h0+0".repeat(11)), asks, 0, 12);
@@ -135,17 +125,11 @@ final class EdgesOfHeard {
     private static void asksOfNone(Edges doc) {
         doc.promise(34, "-2: none fits.");
         Calls.refused("asks without SORTS", TypeAtNight::new, TypeAtNight::asks, -2);
-        Calls.refused("asks, none fits", hearing(FOUR, 0, 7), TypeAtNight::asks, -2);
+        Calls.refused("asks, none fits", Calls.hearing(FOUR, 0, 7), TypeAtNight::asks, -2);
     }
 
     private static Supplier<TypeAtNight> seeing(int... moods) {
-        return () -> {
-            TypeAtNight x = new TypeAtNight();
-            for (int j = 0; j + 2 < moods.length; j += 3) {
-                x.saw(moods[j], moods[j + 1], moods[j + 2]);
-            }
-            return x;
-        };
+        return Calls.seeing(TypeAtNight::new, moods);
     }
 
     private static void saw(Edges doc) {
@@ -183,8 +167,8 @@ final class EdgesOfHeard {
     }
 
     private static void mixingByTerms(Edges doc) {
-        doc.terms("laws of mixing (a 0 .. 5, b 1 .. 5: MOOD m beside a MOOD c becomes m and D: a times (c less m), and that by b (cut to "
-                + "0); put to -9 .. 9).");
+        doc.terms("laws of mixing (a 0 .. 5, b 1 .. 5: MOOD m beside a MOOD c becomes m and D: a times (c less m), "
+                + "and that by b (cut to 0); put to -9 .. 9).");
         ToIntFunction<TypeAtNight> laws = TypeAtNight::laws;
         Calls.question("a 0", seeing(0, 9, 0), laws, 5, 0, 1);
         Calls.question("a 5, b 1", seeing(0, 1, 5), laws, 1, 5, 1);
@@ -198,7 +182,8 @@ final class EdgesOfHeard {
     }
 
     private static void laws(Edges doc) {
-        doc.promise(37, "Laws (30 of them) that fit all that was seen: how many; the ROW: the least a, b (nothing without).");
+        doc.promise(37, "Laws (30 of them) that fit all that was seen: how many; the ROW: the least a, b (nothing "
+                + "without).");
         ToIntFunction<TypeAtNight> laws = TypeAtNight::laws;
         Calls.question("laws, nothing seen", seeing(), laws, 30, 0, 1);
         Calls.question("laws, like MOODS say nothing", seeing(9, 9, 9, -9, -9, -9), laws, 30, 0, 1);
@@ -208,8 +193,8 @@ final class EdgesOfHeard {
     }
 
     private static void looks(Edges doc) {
-        doc.promise(38, "so that, whatever comes, the fewest laws are left at most: 19 times 9 and m, and 9 and c, of equal ones the least; "
-                + "the ROW: how many at most.");
+        doc.promise(38, "so that, whatever comes, the fewest laws are left at most: 19 times 9 and m, and 9 and c, "
+                + "of equal ones the least; the ROW: how many at most.");
         ToIntFunction<TypeAtNight> looks = TypeAtNight::looks;
         Calls.question("looks, nothing seen", seeing(), looks, 5, 5);
         Calls.question("looks of one law", seeing(0, 1, 5), looks, 0, 1);

@@ -114,8 +114,9 @@ final class EdgesOfKept {
     }
 
     private static void countOfLimits(Edges doc) {
-        doc.promise(46, "What 0: SORTS, 1: NIGHT, 2: which are STANDING (bits), 3: WEAR of all, 4: 200 and MOODS of all, 5: how many are in the BOX of "
-                + "their LETTER, 6: what was heard, 7: what was seen, 8: what can be undone, 9: numbers of the ROW, 10: signs of THE TEXT.");
+        doc.promise(46, "What 0: SORTS, 1: NIGHT, 2: which are STANDING (bits), 3: WEAR of all, 4: 200 and MOODS of "
+                + "all, 5: how many are in the BOX of their LETTER, 6: what was heard, 7: what was seen, 8: what can "
+                + "be undone, 9: numbers of the ROW, 10: signs of THE TEXT.");
         TypeAtNight x = Calls.with("a9-9" + ";a9-9".repeat(11), "0");
         x.nights(60);
         for (int n = 0; n < 13; n++) {

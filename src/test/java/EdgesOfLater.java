@@ -31,7 +31,8 @@ final class EdgesOfLater {
     }
 
     private static void later(Edges doc) {
-        doc.promise(22, "10 and MOOD of a SORT in n NIGHTS (0 .. 99); the ROW: its BOX then, 200 and MOODS of all together then.");
+        doc.promise(22, "10 and MOOD of a SORT in n NIGHTS (0 .. 99); the ROW: its BOX then, 200 and MOODS of all "
+                + "together then.");
         Calls.question("later(0, 0)", UP, x -> x.later(0, 0), 5, 0, 203);
         Calls.question("later(1, 0)", UP, x -> x.later(1, 0), 18, 1, 203);
         Calls.question("later(0, 1)", UP, x -> x.later(0, 1), 6, 0, 205);
@@ -53,8 +54,8 @@ final class EdgesOfLater {
     }
 
     private static void settles(Edges doc) {
-        doc.promise(23, "Behind how many NIGHTS (0 .. 96) no MOOD changes in the next three, first: how many; the ROW: 200 and MOODS "
-                + "of all together then.");
+        doc.promise(23, "Behind how many NIGHTS (0 .. 96) no MOOD changes in the next three, first: how many; the "
+                + "ROW: 200 and MOODS of all together then.");
         ToIntFunction<TypeAtNight> settles = TypeAtNight::settles;
         Calls.question("settles without SORTS", TypeAtNight::new, settles, 0, 200);
         Calls.question("settles at once", with("a0+5;b0-9", "0"), settles, 0, 196);
@@ -77,16 +78,16 @@ final class EdgesOfLater {
     }
 
     private static void round(Edges doc) {
-        doc.promise(24, "Behind how many NIGHTS (1 .. 99) all is as it was behind fewer (MOODS, BOXES, who is STANDING, the rest of NIGHT "
-                + "by 7) first: how many; the ROW: behind how many it was so.");
+        doc.promise(24, "Behind how many NIGHTS (1 .. 99) all is as it was behind fewer (MOODS, BOXES, who is "
+                + "STANDING, the rest of NIGHT by 7) first: how many; the ROW: behind how many it was so.");
         ToIntFunction<TypeAtNight> round = TypeAtNight::round;
         Calls.question("the rest of NIGHT by 7", TypeAtNight::new, round, 7, 0);
         Calls.question("MOODS of two NIGHTS", with("a0+4", "-m-m"), round, 14, 0);
         Calls.question("MOODS of three NIGHTS", with("a0-1", "(m<1)*3-2"), round, 21, 0);
         Calls.question("MOODS that are beside each other", with("a0-8;b0+9", "(i=0)*(1-2*(m=-8))"), round, 14, 0);
         Calls.question("who is STANDING", () -> Calls.set(Calls.with("a0+5", "0"), "a", 0), round, 8, 1);
-        Calls.question("who is STANDING, the last of twelve", () -> Calls.set(Calls.with(TWELVE.substring(5) + ";h0+1", "0"), "h", 0),
-                round, 8, 1);
+        Calls.question("who is STANDING, the last of twelve", () -> Calls.set(Calls.with(TWELVE.substring(5) + ";h0+1",
+                "0"), "h", 0), round, 8, 1);
         Calls.question("BOXES", () -> {
             TypeAtNight x = Calls.with("a0+5", "0");
             x.moves(0, 3);
@@ -98,7 +99,8 @@ final class EdgesOfLater {
             return x;
         }, round, 7, 0);
         Calls.question("round behind 99", with("a0+8;a0-1", CLOCK), round, 99, 92);
-        Calls.question("MOODS of seven NIGHTS and of two", with("a0+0;b0+0", "(i=0)*(1-(m=6)*7)+(i=1)*(1-2*m)"), round, 14, 0);
+        Calls.question("MOODS of seven NIGHTS and of two", with("a0+0;b0+0", "(i=0)*(1-(m=6)*7)+(i=1)*(1-2*m)"), round,
+                14, 0);
     }
 
     private static void roundNever(Edges doc) {
@@ -107,14 +109,15 @@ final class EdgesOfLater {
     }
 
     private static void gravest(Edges doc) {
-        doc.promise(25, "The SORT whose MOOD is the farthest from 0 in n NIGHTS (0 .. 99): of equal ones the first: it; the ROW: 10 and "
-                + "MOOD then, 10 and MOOD now.");
+        doc.promise(25, "The SORT whose MOOD is the farthest from 0 in n NIGHTS (0 .. 99): of equal ones the first: "
+                + "it; the ROW: 10 and MOOD then, 10 and MOOD now.");
         Supplier<TypeAtNight> two = with("a0-5;b0+5", "1");
         Calls.question("gravest(0), of equal ones the first", two, x -> x.gravest(0), 0, 5, 5);
         Calls.question("gravest(1)", two, x -> x.gravest(1), 1, 16, 15);
         Calls.question("gravest(99), of equal ones the first", two, x -> x.gravest(99), 0, 19, 5);
         Calls.question("gravest(99) by the last NIGHT", with("a0+0;b0-9", "(i=1)*(n=0)"), x -> x.gravest(99), 1, 16, 1);
-        Calls.question("gravest(0) of the last of twelve", with(TWELVE.substring(5) + ";h0-9", "0"), x -> x.gravest(0), 11, 1, 1);
+        Calls.question("gravest(0) of the last of twelve", with(TWELVE.substring(5) + ";h0-9", "0"), x -> x.gravest(0),
+                11, 1, 1);
         Calls.question("gravest(0) of twelve like ones", with(TWELVE, "0"), x -> x.gravest(0), 0, 11, 11);
         Calls.question("gravest(0) of none but 0", with("a0+0;b0-0", "0"), x -> x.gravest(0), 0, 10, 10);
     }
@@ -128,8 +131,8 @@ final class EdgesOfLater {
     }
 
     private static void blowsByRange(Edges doc) {
-        doc.promise(26, "The fewest SORTS (STANDING or not) to be cleaned now (MOOD 0) so that in n NIGHTS (0 .. 20) MOODS of all are v "
-                + "(0 .. 9) or less from 0: how many");
+        doc.promise(26, "The fewest SORTS (STANDING or not) to be cleaned now (MOOD 0) so that in n NIGHTS (0 .. 20) "
+                + "MOODS of all are v (0 .. 9) or less from 0: how many");
         Calls.question("blows(0, 0) without SORTS", TypeAtNight::new, x -> x.blows(0, 0), 0, 0);
         Calls.question("blows(20, 9) without SORTS", TypeAtNight::new, x -> x.blows(20, 9), 0, 0);
         Calls.question("blows(0, 0)", FOUR, x -> x.blows(0, 0), 3, 7);
@@ -139,8 +142,8 @@ final class EdgesOfLater {
         Calls.question("blows(0, 8)", with("a0+9;b0-9", "0"), x -> x.blows(0, 8), 2, 3);
         Calls.question("blows(20, 8) by the last NIGHT", with("a0+6;b0-8", "(n=6)"), x -> x.blows(20, 8), 0, 0);
         Calls.question("blows(20, 7) by the last NIGHT", with("a0+6;b0-9", "(n=5)"), x -> x.blows(20, 7), 1, 1);
-        Calls.question("blows of those that are STANDING", () -> Calls.set(Calls.with("a0+4;b0+2", "0"), "a", 9), x -> x.blows(0, 5),
-                1, 1);
+        Calls.question("blows of those that are STANDING", () -> Calls.set(Calls.with("a0+4;b0+2", "0"), "a", 9),
+                x -> x.blows(0, 5), 1, 1);
         Calls.question("blows of all twelve", with("h0-9" + ";h0-9".repeat(11), "0"), x -> x.blows(20, 0), 12, 4095);
     }
 

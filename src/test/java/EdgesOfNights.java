@@ -1,4 +1,5 @@
 import java.util.function.Supplier;
+import java.util.function.ToIntBiFunction;
 import java.util.function.ToIntFunction;
 
 /** Edges that promises 9 to 15 name. */
@@ -34,8 +35,8 @@ final class EdgesOfNights {
     }
 
     private static void feelings(Edges doc) {
-        doc.promise(9, "THE TEXT is SET with a FEELING v (-9 .. 9): SORTS that it took (bits); the ROW: 200 and MOODS of these "
-                + "together, as they were ahead of it, then.");
+        doc.promise(9, "THE TEXT is SET with a FEELING v (-9 .. 9): SORTS that it took (bits); the ROW: 200 and "
+                + "MOODS of these together, as they were ahead of it, then.");
         for (int v : new int[] {-9, -1, 0, 1, 9}) {
             TypeAtNight x = FOUR.get();
             Calls.due("sets(" + v + ")", Calls.put(x, "ca").sets(v), 9);
@@ -48,13 +49,15 @@ final class EdgesOfNights {
 
     private static void textsThatCantStand(Edges doc) {
         doc.promise(9, "-1 - p: the sign at p can't stand there (its end for none; a thirteenth: at it).");
-        Calls.faults("sets", TWELVE, x -> x.sets(0), -1, "", 0, "i", 0, "`", 0, "A", 0, ";", 0, "\0", 0, "\u00e1", 0, "ai", 1,
-                "a".repeat(11) + "i", 11, "a".repeat(12) + "a", 12, "a".repeat(12) + "i", 12, "a".repeat(80), 12);
+        Calls.faults("sets", TWELVE, x -> x.sets(0), -1, "", 0, "i", 0, "`", 0, "A", 0, ";", 0, "\0", 0, "\u00e1", 0,
+                "ai", 1, "a".repeat(11) + "i", 11, "a".repeat(12) + "a", 12, "a".repeat(12) + "i", 12,
+                "a".repeat(80), 12);
         Calls.due("twelve", Calls.put(TWELVE.get(), "a".repeat(12)).sets(0), 4095);
     }
 
     private static void setsRefused(Edges doc) {
-        doc.promise(9, "-100: another v; -101: there are not SORTS enough (these in that order; nothing is SET then).");
+        doc.promise(9, "-100: another v; -101: there are not SORTS enough (these in that order; nothing is SET "
+                + "then).");
         Calls.others("sets", FOUR, "ab", (x, v) -> x.sets(v), -9, 9, -100);
         Calls.others("sets, too few", FOUR, "h", (x, v) -> x.sets(v), -9, 9, -100);
         Calls.refused("sets, one too few of the last letter", FOUR, "aabc" + "c", x -> x.sets(1), -101);
@@ -65,8 +68,8 @@ final class EdgesOfNights {
     }
 
     private static void nights(Edges doc) {
-        doc.promise(10, "n NIGHTS (0 .. 60): how many SORTS are in the BOX of their LETTER then; the ROW: 200 and MOODS of all "
-                + "together then. Refused: another n.");
+        doc.promise(10, "n NIGHTS (0 .. 60): how many SORTS are in the BOX of their LETTER then; the ROW: 200 and "
+                + "MOODS of all together then. Refused: another n.");
         TypeAtNight x = Calls.set(FOUR.get(), "c", 0);
         x.moves(1, 7);
         Calls.due("nights(0)", x.nights(0), 3);
@@ -114,33 +117,33 @@ final class EdgesOfNights {
 
     private static void cleans(Edges doc) {
         doc.promise(12, "-2: it is 0; NONE: none such.");
-        Supplier<TypeAtNight> three = () -> Calls.with("a0+9;b1-9;c9+0");
-        TypeAtNight x = three.get();
-        Calls.due("the greatest", x.cleans(0), 19);
-        Calls.due("the least", x.cleans(1), 1);
-        Calls.due("once more", x.cleans(1), -2);
-        Calls.due("what can be undone", x.count(8), 2);
-        Calls.each("MOOD", x, 2, 10, 10, 10);
-        Calls.refused("cleans(2)", three, y -> y.cleans(2), -2);
-        Calls.others("cleans", three, "", (y, sort) -> y.cleans(sort), 0, 2, -1);
-        Calls.others("cleans of twelve", TWELVE, "", (y, sort) -> y.cleans(sort), 0, 11, -1);
-        Calls.due("the last of twelve", TWELVE.get().cleans(11), 11);
+        putTo0("cleans", (x, sort) -> x.cleans(sort), 2, "a0+9;b1-9;c9+0", 19, 1);
     }
 
     private static void casts(Edges doc) {
         doc.promise(13, "-2: it is 0; NONE: none such.");
-        Supplier<TypeAtNight> three = () -> Calls.with("a0+9;b1-9;c9+0");
+        putTo0("casts", (x, sort) -> x.casts(sort), 1, "a9+0;b1-9;c0+9", 9, 1);
+    }
+
+    /** Three SORTS: of the first that thing is the greatest, of the second the least, of the third it is 0. */
+    private static void putTo0(String call, ToIntBiFunction<TypeAtNight, Integer> asked, int what, String sorts,
+            long greatest, long least) {
+        Supplier<TypeAtNight> three = () -> Calls.with(sorts);
         TypeAtNight x = three.get();
-        Calls.due("the greatest", x.casts(2), 9);
-        Calls.due("the least", x.casts(1), 1);
-        Calls.due("once more", x.casts(1), -2);
+        long nought = x.sort(2, what);
+        Calls.due(call + " of the greatest", asked.applyAsInt(x, 0), greatest);
+        Calls.due(call + " of the least", asked.applyAsInt(x, 1), least);
+        Calls.due(call + " once more", asked.applyAsInt(x, 1), -2);
         Calls.due("what can be undone", x.count(8), 2);
-        Calls.each("WEAR", x, 1, 0, 0, 0);
-        Calls.refused("casts(0)", three, y -> y.casts(0), -2);
-        Calls.others("casts", three, "", (y, sort) -> y.casts(sort), 0, 2, -1);
-        Supplier<TypeAtNight> twelve = () -> Calls.with("a3+1" + ";a3+1".repeat(11));
-        Calls.others("casts of twelve", twelve, "", (y, sort) -> y.casts(sort), 0, 11, -1);
-        Calls.due("the last of twelve", twelve.get().casts(11), 3);
+        Calls.each(call, x, what, nought, nought, nought);
+        Calls.refused(call + " of what is 0", three, y -> asked.applyAsInt(y, 2), -2);
+        Calls.others(call, three, "", asked, 0, 2, -1);
+        Supplier<TypeAtNight> twelve = () -> Calls.with("a3+3" + ";a3+3".repeat(11));
+        Calls.others(call + " of twelve", twelve, "", asked, 0, 11, -1);
+        TypeAtNight last = twelve.get();
+        asked.applyAsInt(last, 11);
+        Calls.due(call + " of the last of twelve", last.sort(11, what), nought);
+        Calls.refused(call + " without SORTS", TypeAtNight::new, y -> asked.applyAsInt(y, 0), -1);
     }
 
     /** A week on a new object of these SORTS: how many ACTS were done, the ROW, and what can be undone then. */
@@ -165,40 +168,42 @@ final class EdgesOfNights {
         Calls.due("NIGHT", week(FOUR, "N9", 1, 0, 0).count(1), 9);
         Calls.due("NIGHT", week(FOUR, "N0", 1, 0, 0).count(1), 0);
         Calls.due("NIGHT", week(FOUR, "N1N0N2", 3, 0, 0).count(1), 3);
-        Calls.faults("week", FOUR, WEEK, -1, "N", 1, "Na", 1, "N-", 1, "N:", 1, "N/", 1, "N1 N1", 2, "N1;N1", 2, "N10", 2,
-                "n1", 0, " N1", 0);
+        Calls.faults("week", FOUR, WEEK, -1, "N", 1, "Na", 1, "N-", 1, "N:", 1, "N/", 1, "N1 N1", 2, "N1;N1", 2,
+                "N10", 2, "n1", 0, " N1", 0);
     }
 
     private static void weekOfLetters(Edges doc) {
-        doc.promise(14, "S, + or -, a digit and letters a .. h, at least one and at most 12, a thirteenth can't stand there "
-                + "(sets() of these, with that FEELING)");
-        Calls.each("MOOD", week(TWELVE, "S+9" + "a".repeat(12), 1, 0, 12), 2, 19, 19, 19, 19, 19, 19, 19, 19, 19, 19, 19, 19);
+        doc.promise(14, "S, + or -, a digit and letters a .. h, at least one and at most 12, a thirteenth can't "
+                + "stand there (sets() of these, with that FEELING)");
+        Calls.each("MOOD", week(TWELVE, "S+9" + "a".repeat(12), 1, 0, 12), 2, 19, 19, 19, 19, 19, 19, 19, 19, 19, 19,
+                19, 19);
         Calls.each("MOOD", week(TWELVE, "S-9a", 1, 0, 1), 2, 2, 11);
         Calls.each("WEAR", week(TWELVE, "S-0aS+0aN1", 3, 0, 0), 1, 1, 1, 0);
-        Calls.faults("week", TWELVE, WEEK, -1, "S+1", 3, "S+1N1", 3, "S+1i", 3, "S+1`", 3, "S+1A", 3, "S+1a1", 4, "S+1ai", 4,
-                "S+1" + "a".repeat(13), 15, "S+1" + "a".repeat(12) + "i", 15, "S+1" + "a".repeat(20), 15,
-                "N1S-9" + "h".repeat(13) + "N1", 17, "S", 1, "S+", 2, "S1a", 1, "S*1a", 1, "S+aa", 2, "S++1a", 2, "S+12a", 3);
+        Calls.faults("week", TWELVE, WEEK, -1, "S+1", 3, "S+1N1", 3, "S+1i", 3, "S+1`", 3, "S+1A", 3, "S+1a1", 4,
+                "S+1ai", 4, "S+1" + "a".repeat(13), 15, "S+1" + "a".repeat(12) + "i", 15, "S+1" + "a".repeat(20), 15,
+                "N1S-9" + "h".repeat(13) + "N1", 17, "S", 1, "S+", 2, "S1a", 1, "S*1a", 1, "S+aa", 2, "S++1a", 2,
+                "S+12a", 3);
     }
 
     private static void weekOfMoves(Edges doc) {
         doc.promise(14, "M, two digits and a digit 0 .. 7 (moves())");
         Calls.each("BOX", week(FOUR, "M007M017M000", 3, 0, 0), 3, 0, 7, 1, 2);
         Calls.due("BOX", week(TWELVE, "M117M110", 2, 0, 0).sort(11, 3), 0);
-        Calls.faults("week", TWELVE, WEEK, -1, "M", 1, "M0", 2, "M00", 3, "M008", 3, "M009", 3, "M00/", 3, "M00a", 3, "M0a1", 2,
-                "Ma01", 1, "M0011", 4, "M-11", 1);
+        Calls.faults("week", TWELVE, WEEK, -1, "M", 1, "M0", 2, "M00", 3, "M008", 3, "M009", 3, "M00/", 3, "M00a", 3,
+                "M0a1", 2, "Ma01", 1, "M0011", 4, "M-11", 1);
     }
 
     private static void weekOfCleaning(Edges doc) {
         doc.promise(14, "C and two digits (cleans()), F and two digits (casts())");
         Calls.due("MOOD", week(TWELVE, "C11", 1, 0, 0).sort(11, 2), 10);
         Calls.due("WEAR", week(FOUR, "F03F01", 2, 0, 0).sort(3, 1), 0);
-        Calls.faults("week", TWELVE, WEEK, -1, "C", 1, "C0", 2, "C0a", 2, "Ca0", 1, "C000", 3, "F", 1, "F0", 2, "F0C", 2, "FN", 1,
-                "F000", 3);
+        Calls.faults("week", TWELVE, WEEK, -1, "C", 1, "C0", 2, "C0a", 2, "Ca0", 1, "C000", 3, "F", 1, "F0", 2,
+                "F0C", 2, "FN", 1, "F000", 3);
     }
 
     private static void weekStuck(Edges doc) {
-        doc.promise(14, "they are done one by one, till one can't be (it answers below 0): how many were done; the ROW: 1 if one "
-                + "could not be, else 0; how many are STANDING then.");
+        doc.promise(14, "they are done one by one, till one can't be (it answers below 0): how many were done; the "
+                + "ROW: 1 if one could not be, else 0; how many are STANDING then.");
         String[] cant = {"S+1d", "S+1aaa", "M000", "M040", "M990", "C03", "C04", "C99", "F00", "F04", "F99"};
         for (String act : cant) {
             week(FOUR, act, 0, 1, 0);
@@ -212,24 +217,27 @@ final class EdgesOfNights {
     }
 
     private static void weekThatCantStand(Edges doc) {
-        doc.promise(14, "-1 - p: the sign at p can't stand there (its end, if it ends too early; 60, if it has more and the first "
-                + "60 could go on or end); nothing is done then.");
+        doc.promise(14, "-1 - p: the sign at p can't stand there (its end, if it ends too early; 60, if it has more "
+                + "and the first 60 could go on or end); nothing is done then.");
         String sixty = "N1".repeat(30);
         Calls.due("sixty signs", Calls.put(FOUR.get(), sixty).week(), 30);
-        Calls.faults("week of more than 60 that could end", FOUR, WEEK, -1, sixty + "N", 60, sixty + "N1", 60, sixty + "x", 60,
-                sixty + "N".repeat(20), 60, "N1".repeat(28) + "S+1ab", 60, "N1".repeat(28) + "S+1ax", 60);
+        Calls.faults("week of more than 60 that could end", FOUR, WEEK, -1, sixty + "N", 60, sixty + "N1", 60,
+                sixty + "x", 60, sixty + "N".repeat(20), 60, "N1".repeat(28) + "S+1ab", 60,
+                "N1".repeat(28) + "S+1ax", 60);
         String early = "N1".repeat(29);
         Calls.faults("week of more than 60 that could go on", FOUR, WEEK, -1, early + "M015", 60, early + "M01x", 60,
                 early + "M0x5", 60, early + "S+1a", 60, early + "S+xa", 60, early + "C00", 60, early + "C0x", 60);
-        Calls.faults("week of sixty that ends too early", FOUR, WEEK, -1, early + "M0", 60, early + "S+", 60, early + "C0", 60);
+        Calls.faults("week of sixty that ends too early", FOUR, WEEK, -1, early + "M0", 60, early + "S+", 60,
+                early + "C0", 60);
         Calls.faults("week of more than 60, wrong ahead of it", FOUR, WEEK, -1, early + "Mx15", 59, early + "NNN", 59,
                 early + "x1N", 58, "S+1" + "a".repeat(13) + sixty, 15, "x" + sixty, 0);
         Calls.faults("week, wrong behind what could be done", FOUR, WEEK, -1, "S+1aN9C00x", 9, "M005N", 5, "C00C", 4);
     }
 
     private static void undoOfTwelve(Edges doc) {
-        doc.promise(15, "(of 12 that are kept, the latest ones; such as were done; nights() of 1 and more, week() of which one ACT "
-                + "was done, as one) is undone (all of SORTS but LETTERS, NIGHT are as ahead of it): how many are left that can be.");
+        doc.promise(15, "(of 12 that are kept, the latest ones; such as were done; nights() of 1 and more, week() of "
+                + "which one ACT was done, as one) is undone (all of SORTS but LETTERS, NIGHT are as ahead of it): "
+                + "how many are left that can be.");
         for (int acts = 11; acts <= 14; acts++) {
             TypeAtNight x = Calls.with("a0+0", "0");
             for (int night = 1; night <= acts; night++) {

@@ -250,6 +250,16 @@ final class EdgesOfRefusals {
             question.asked.applyAsInt(Calls.put(x, reads ? question.text : "ab"));
             Calls.due("signs behind " + question.name, x.count(10), reads ? 0 : 2);
         }
+        List<Call> done = List.of(
+                new Call("sorts()", "h0+0;g0+0", TypeAtNight::sorts, 2),
+                new Call("rule()", "m+1", TypeAtNight::rule, 0),
+                new Call("sets(0)", "a", y -> y.sets(0), 2),
+                new Call("week()", "N1N1", TypeAtNight::week, 2));
+        for (Call call : done) {
+            TypeAtNight x = RICH.get();
+            Calls.due(call.name, call.asked.applyAsInt(Calls.put(x, call.text)), call.want);
+            Calls.due("signs behind " + call.name, x.count(10), 0);
+        }
         TypeAtNight x = RICH.get();
         Calls.put(x, "ab");
         x.nights(1);

@@ -54,8 +54,8 @@ final class EdgesOfSorts {
     }
 
     private static void sign(Edges doc) {
-        doc.promise(2, "Four signs come behind THE TEXT, of v the highest byte first: how many it has. "
-                + "Refused: there would be more than 80.");
+        doc.promise(2, "Four signs come behind THE TEXT, of v the highest byte first: how many it has. Refused: "
+                + "there would be more than 80.");
         TypeAtNight x = Calls.with("a0+0;b0+0;c0+0;d0+0");
         for (int n = 4; n <= 80; n += 4) {
             Calls.due("sign", x.sign(0x61626364), n);
@@ -107,14 +107,15 @@ final class EdgesOfSorts {
     }
 
     private static void linesThatCantStand(Edges doc) {
-        doc.promise(4, "-1 - p: the sign at p can't stand there (its end, if it ends too early; 59, if it has more and the "
-                + "first 59 could go on or end; the first sign of a LINE for which there is no room).");
+        doc.promise(4, "-1 - p: the sign at p can't stand there (its end, if it ends too early; 59, if it has more "
+                + "and the first 59 could go on or end; the first sign of a LINE for which there is no room).");
         Calls.faults("sorts that end too early", NONE, SORTS, -1, "a", 1, "a0", 2, "a0+", 3, "a0+0;", 5, "a0+0;a", 6,
                 TWELVE.substring(0, 58), 58, TWELVE.substring(0, 55), 55);
-        Calls.faults("sorts", NONE, SORTS, -1, "0", 0, ";", 0, ";a0+0", 0, "aa", 1, "a+", 1, "a00", 2, "a0;", 2, "a0+a", 3,
-                "a0++", 3, "a0+-", 3, "a0+00", 4, "a0+0a", 4, "a0+0;;", 5, "a0+0;0", 5);
+        Calls.faults("sorts", NONE, SORTS, -1, "0", 0, ";", 0, ";a0+0", 0, "aa", 1, "a+", 1, "a00", 2, "a0;", 2,
+                "a0+a", 3, "a0++", 3, "a0+-", 3, "a0+00", 4, "a0+0a", 4, "a0+0;;", 5, "a0+0;0", 5);
         Calls.faults("sorts of more than 59", NONE, SORTS, -1, TWELVE + ";", 59, TWELVE + "x", 59, TWELVE + ";a0+0", 59,
-                TWELVE + ";".repeat(21), 59, TWELVE.substring(0, 58) + "x0", 58, TWELVE.substring(0, 54) + ",a0+00", 54);
+                TWELVE + ";".repeat(21), 59, TWELVE.substring(0, 58) + "x0", 58,
+                TWELVE.substring(0, 54) + ",a0+00", 54);
         Calls.faults("sorts with eleven", having(11), SORTS, -1, "a0+0;", 5, "a0+0;b0+0", 5, "a0+0;x", 5, "a0+0x", 4,
                 "a0+x;b0+0", 3, TWELVE + ";", 5);
         Calls.faults("sorts with one", having(1), SORTS, -1, TWELVE, 55, TWELVE + ";", 55, TWELVE.substring(0, 55), 55);
@@ -146,9 +147,10 @@ final class EdgesOfSorts {
 
     private static void rulesThatCantStand(Edges doc) {
         doc.promise(5, "-1 - p: the sign at p can't stand there (its end, if it ends too early");
-        Calls.faults("rule", having(2), RULE, -1, "-", 1, "(", 1, "m+", 2, "m<", 2, "(m", 2, "((m)", 4, "m*(", 3, "m/-", 3);
-        Calls.faults("rule", having(2), RULE, -1, "+", 0, ")", 0, "x", 0, "\0", 0, "\u00ff", 0, "m\0", 1, "m)", 1, "m m", 1,
-                "5m", 1, "m5", 1, "1234", 3, "m<w=l", 3, "(((((", 4);
+        Calls.faults("rule", having(2), RULE, -1, "-", 1, "(", 1, "m+", 2, "m<", 2, "(m", 2, "((m)", 4, "m*(", 3,
+                "m/-", 3);
+        Calls.faults("rule", having(2), RULE, -1, "+", 0, ")", 0, "x", 0, "\0", 0, "\u00ff", 0, "m\0", 1, "m)", 1,
+                "m m", 1, "5m", 1, "m5", 1, "1234", 3, "m<w=l", 3, "(((((", 4);
     }
 
     private static void rulesTooLong(Edges doc) {
@@ -186,7 +188,8 @@ final class EdgesOfSorts {
                 }
             }
         }
-        doc.promise(6, "Of a SORT, what 0: LETTER, 1: WEAR, 2: 10 and MOOD, 3: BOX, 4: 1 if STANDING, 5: 10 and TURN now.");
+        doc.promise(6, "Of a SORT, what 0: LETTER, 1: WEAR, 2: 10 and MOOD, 3: BOX, 4: 1 if STANDING, 5: 10 and TURN "
+                + "now.");
         TypeAtNight x = Calls.with("h9-9;a0+9", "m*9");
         Calls.set(x, "h", 0);
         long[][] want = {{7, 9, 1, 7, 1, 1}, {0, 0, 19, 0, 0, 19}};
@@ -226,8 +229,8 @@ final class EdgesOfSorts {
     }
 
     private static void entries(Edges doc) {
-        doc.promise(8, "WEAR of SORTS 0, 1, .., as a sheet tells it: bytes (kind 0), shorts (1), ints (2) of n entries f, "
-                + "f + step, .. (of bytes, shorts the lowest bits, with their sign; put to 0 .. 9)");
+        doc.promise(8, "WEAR of SORTS 0, 1, .., as a sheet tells it: bytes (kind 0), shorts (1), ints (2) of n "
+                + "entries f, f + step, .. (of bytes, shorts the lowest bits, with their sign; put to 0 .. 9)");
         TypeAtNight x = Calls.with("a5+0;b5+0;c5+0;d5+0");
         sheet(x, 2, 4, -1, 1, 0, 0, 1, 2);
         sheet(x, 2, 4, 8, 1, 8, 9, 9, 9);
@@ -267,8 +270,8 @@ final class EdgesOfSorts {
     }
 
     private static void sheetUndone(Edges doc) {
-        doc.promise(8, "Nothing is kept of it that could be undone (an undo() behind it brings WEAR back, too, as it was ahead "
-                + "of what is undone).");
+        doc.promise(8, "Nothing is kept of it that could be undone (an undo() behind it brings WEAR back, too, as it "
+                + "was ahead of what is undone).");
         TypeAtNight x = Calls.with("a5+0;b6+0");
         sheet(x, 2, 2, 1, 1, 1, 2);
         Calls.due("nothing to undo", x.undo(), -1);

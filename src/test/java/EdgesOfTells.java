@@ -39,15 +39,16 @@ final class EdgesOfTells {
         Calls.refused("tells, one is STANDING", STANDING, "aa", tells, -101);
         Calls.refused("tells without SORTS", TypeAtNight::new, "a", tells, -101);
         Calls.question("tells, just enough", FOUR, "aabc", tells, 205, 15);
-        doc.promise(16, "200 and MOODS of the SORTS that it would take, as they are now; the ROW: these SORTS (bits).");
+        doc.promise(16, "200 and MOODS of the SORTS that it would take, as they are now; the ROW: these SORTS "
+                + "(bits).");
         Calls.question("tells, the least", TWELVE, "h".repeat(12), tells, 92, 4095);
         Calls.question("tells, the greatest", HIGH, "h".repeat(12), tells, 308, 4095);
         Calls.question("tells, one is STANDING", STANDING, "a", tells, 198, 2);
     }
 
     private static void often(Edges doc) {
-        doc.promise(17, "How often THE TEXT can be SET one behind the other now, before a NIGHT: how often; the ROW: LETTERS of it "
-                + "(bits) that are not there for one more time. -1 - p: as sets().");
+        doc.promise(17, "How often THE TEXT can be SET one behind the other now, before a NIGHT: how often; the ROW: "
+                + "LETTERS of it (bits) that are not there for one more time. -1 - p: as sets().");
         ToIntFunction<TypeAtNight> often = TypeAtNight::often;
         asSets("often", often);
         Calls.question("often, never", FOUR, "h", often, 0, 128);
@@ -62,8 +63,8 @@ final class EdgesOfTells {
     }
 
     private static void shortest(Edges doc) {
-        doc.promise(18, "The LETTER of which the fewest SORTS are not STANDING: of equal ones the first: it; the ROW: how many, how "
-                + "many there are of it in all.");
+        doc.promise(18, "The LETTER of which the fewest SORTS are not STANDING: of equal ones the first: it; the "
+                + "ROW: how many, how many there are of it in all.");
         ToIntFunction<TypeAtNight> shortest = TypeAtNight::shortest;
         Supplier<TypeAtNight> eight = () -> Calls.with("a0+0;b0+0;c0+0;d0+0;e0+0;f0+0;g0+0;h0+0");
         Calls.question("shortest without SORTS", TypeAtNight::new, shortest, 0, 0, 0);
@@ -72,7 +73,8 @@ final class EdgesOfTells {
         Calls.question("shortest, the last STANDING", () -> Calls.set(eight.get(), "h", 0), shortest, 7, 0, 1);
         Calls.question("shortest, all STANDING", () -> Calls.set(eight.get(), "abcdefgh", 0), shortest, 0, 0, 1);
         Calls.question("shortest of the first not there", TWELVE, shortest, 0, 0, 0);
-        Calls.question("shortest of the last not there", () -> Calls.with("a0+0;b0+0;c0+0;d0+0;e0+0;f0+0;g0+0"), shortest, 7, 0, 0);
+        Calls.question("shortest of the last not there", () -> Calls.with("a0+0;b0+0;c0+0;d0+0;e0+0;f0+0;g0+0"),
+                shortest, 7, 0, 0);
     }
 
     private static void bearsOfRange(Edges doc) {
@@ -91,7 +93,8 @@ final class EdgesOfTells {
         Calls.question("bears(0), too few of one letter", FOUR, "ch", x -> x.bears(0), 0);
         Calls.question("bears(0) without SORTS", TypeAtNight::new, "a", x -> x.bears(0), 0);
         Calls.question("bears(4), that one is STANDING", STANDING, "a", x -> x.bears(4), 0);
-        Calls.question("bears(3), of two the least", () -> Calls.with("a0+0;a0+3;b0+0;b0+3"), "ab", x -> x.bears(3), 2, 6);
+        Calls.question("bears(3), of two the least", () -> Calls.with("a0+0;a0+3;b0+0;b0+3"), "ab", x -> x.bears(3), 2,
+                6);
     }
 
     private static void bearsRefused(Edges doc) {
@@ -103,14 +106,15 @@ final class EdgesOfTells {
     }
 
     private static void spans(Edges doc) {
-        doc.promise(20, "200 and the least; the ROW: 200 and the greatest, then both sets (bits; of like ones the least). -1 - p: as "
-                + "sets(). -101: there are not SORTS enough.");
+        doc.promise(20, "200 and the least; the ROW: 200 and the greatest, then both sets (bits; of like ones the "
+                + "least). -1 - p: as sets(). -101: there are not SORTS enough.");
         ToIntFunction<TypeAtNight> spans = TypeAtNight::spans;
         asSets("spans", spans);
         Calls.question("spans of all, the least", TWELVE, "h".repeat(12), spans, 92, 92, 4095, 4095);
         Calls.question("spans of all, the greatest", HIGH, "h".repeat(12), spans, 308, 308, 4095, 4095);
         Calls.question("spans of like ones", HIGH, "hhh", spans, 227, 227, 7, 7);
-        Calls.question("spans of like ones, not the first", () -> Calls.with("a0+1;a0+0;a0+2;a0+0;a0+2"), "a", spans, 200, 202, 2, 4);
+        Calls.question("spans of like ones, not the first", () -> Calls.with("a0+1;a0+0;a0+2;a0+0;a0+2"), "a", spans,
+                200, 202, 2, 4);
         Calls.question("spans, one is STANDING", STANDING, "ab", spans, 201, 201, 6, 6);
         Calls.refused("spans, one too few", FOUR, "aaab", spans, -101);
         Calls.refused("spans, none of the last letter", FOUR, "abh", spans, -101);
@@ -130,7 +134,8 @@ final class EdgesOfTells {
     }
 
     private static void wordsAtOnce(Edges doc) {
-        doc.promise(21, "the most words that can be SET at once now: how many; the ROW: they (bits; of as many the least).");
+        doc.promise(21, "the most words that can be SET at once now: how many; the ROW: they (bits; of as many the "
+                + "least).");
         ToIntFunction<TypeAtNight> packs = TypeAtNight::packs;
         Calls.question("packs, none", FOUR, "d;aaa;bb;h", packs, 0, 0);
         Calls.question("packs without SORTS", TypeAtNight::new, "a;b", packs, 0, 0);
@@ -142,20 +147,21 @@ final class EdgesOfTells {
     }
 
     private static void wordsThatCantStand(Edges doc) {
-        doc.promise(21, "-1 - p: the sign at p can't stand there (its end, if it ends too early; the ninth word: at its first sign; 60, "
-                + "if it has more and the first 60 could go on or end).");
+        doc.promise(21, "-1 - p: the sign at p can't stand there (its end, if it ends too early; the ninth word: at "
+                + "its first sign; 60, if it has more and the first 60 could go on or end).");
         ToIntFunction<TypeAtNight> packs = TypeAtNight::packs;
         String eight = "a;a;a;a;a;a;a;a";
         Calls.faults("packs that ends too early", FOUR, packs, -1, "", 0, "a;", 2, "ab;a;", 5, eight + ";", 16,
                 "a".repeat(59) + ";", 60);
-        Calls.faults("packs", FOUR, packs, -1, ";", 0, ";a", 0, "a;;a", 2, "i", 0, "`", 0, "a,b", 1, "a b", 1, "a0", 1, "aA", 1);
+        Calls.faults("packs", FOUR, packs, -1, ";", 0, ";a", 0, "a;;a", 2, "i", 0, "`", 0, "a,b", 1, "a b", 1, "a0", 1,
+                "aA", 1);
         Calls.faults("packs of a ninth word", FOUR, packs, -1, eight + ";a", 16, eight + ";x", 16, eight + ";;", 16,
                 eight + ";" + "a".repeat(60), 16, eight + "aa;aa", 18);
         String seven = "a;a;a;a;a;a;a;";
-        Calls.faults("packs of more than 60", FOUR, packs, -1, "a".repeat(61), 60, "a".repeat(60) + ";", 60, "a".repeat(60) + "x", 60,
-                "a".repeat(59) + ";a", 60, "a".repeat(59) + ";x", 60, "a".repeat(80), 60, seven + "a".repeat(46) + "a", 60,
-                seven + "a".repeat(45) + ";a", 60);
-        Calls.faults("packs of more than 60, wrong ahead of it", FOUR, packs, -1, "a".repeat(59) + "xa", 59, "a".repeat(58) + ";;a", 59,
-                "x" + "a".repeat(60), 0);
+        Calls.faults("packs of more than 60", FOUR, packs, -1, "a".repeat(61), 60, "a".repeat(60) + ";", 60,
+                "a".repeat(60) + "x", 60, "a".repeat(59) + ";a", 60, "a".repeat(59) + ";x", 60, "a".repeat(80), 60,
+                seven + "a".repeat(46) + "a", 60, seven + "a".repeat(45) + ";a", 60);
+        Calls.faults("packs of more than 60, wrong ahead of it", FOUR, packs, -1, "a".repeat(59) + "xa", 59,
+                "a".repeat(58) + ";;a", 59, "x" + "a".repeat(60), 0);
     }
 }

@@ -63,8 +63,8 @@ final class EdgesOfTerms {
     }
 
     private static void sorts(Edges doc) {
-        doc.terms("SORTS 0 .. (at most 12): a LETTER, WEAR 0 .. 9, MOOD -9 .. 9, a BOX (at first that of its LETTER), "
-                + "STANDING (in a text) or not (at first not).");
+        doc.terms("SORTS 0 .. (at most 12): a LETTER, WEAR 0 .. 9, MOOD -9 .. 9, a BOX (at first that of its "
+                + "LETTER), STANDING (in a text) or not (at first not).");
         TypeAtNight x = Calls.with("c0-9;h9+9");
         long[][] first = {{2, 0, 1, 2, 0}, {7, 9, 19, 7, 0}};
         for (int what = 0; what < 5; what++) {
@@ -77,8 +77,8 @@ final class EdgesOfTerms {
     }
 
     private static void lines(Edges doc) {
-        doc.terms("They are told by a text of at most 59 signs: LINES with ; between, each one more: a letter a .. h, "
-                + "a digit (WEAR), + or -, a digit (MOOD).");
+        doc.terms("They are told by a text of at most 59 signs: LINES with ; between, each one more: a letter a .. "
+                + "h, a digit (WEAR), + or -, a digit (MOOD).");
         Calls.due("signs of twelve LINES", TWELVE.length(), 59);
         Calls.due("twelve LINES", Calls.put(new TypeAtNight(), TWELVE).sorts(), 12);
         Calls.refused("sorts of 60 signs", TypeAtNight::new, TWELVE + "0", TypeAtNight::sorts, -60);
@@ -108,8 +108,8 @@ final class EdgesOfTerms {
     }
 
     private static void taken(Edges doc) {
-        doc.terms("its letters, one behind the other, take each the SORT of that LETTER that is not STANDING (also not "
-                + "by this text) and has the least WEAR (of like ones the first)");
+        doc.terms("its letters, one behind the other, take each the SORT of that LETTER that is not STANDING (also "
+                + "not by this text) and has the least WEAR (of like ones the first)");
         Supplier<TypeAtNight> four = () -> Calls.with("a2+0;a1+0;b0+0;a1+0");
         TypeAtNight x = four.get();
         Calls.due("the least WEAR, of like ones the first", Calls.put(x, "a").sets(0), 2);
@@ -122,8 +122,8 @@ final class EdgesOfTerms {
     }
 
     private static void worn(Edges doc) {
-        doc.terms("each that is taken is STANDING from then on, its WEAR is 1 more (9 at most), its MOOD FEELING more "
-                + "(put to -9 .. 9).");
+        doc.terms("each that is taken is STANDING from then on, its WEAR is 1 more (9 at most), its MOOD FEELING "
+                + "more (put to -9 .. 9).");
         TypeAtNight x = Calls.with("a7+0;b8+1;c9+8;d9+9;e0-1");
         Calls.set(x, "abcd", 8);
         Calls.each("STANDING", x, 4, 1, 1, 1, 1, 0);
@@ -139,8 +139,8 @@ final class EdgesOfTerms {
     }
 
     private static void distributed(Edges doc) {
-        doc.terms("(1) each that is STANDING is not any more, and goes to the BOX of its LETTER, but one of WEAR 9 to the "
-                + "next BOX (behind 7: 0).");
+        doc.terms("(1) each that is STANDING is not any more, and goes to the BOX of its LETTER, but one of WEAR 9 "
+                + "to the next BOX (behind 7: 0).");
         TypeAtNight x = Calls.with("h9+0;g8+0;a9+0;c7+0;d9+0;e0+0", "0");
         x.moves(3, 5);
         x.moves(4, 6);
@@ -192,7 +192,8 @@ final class EdgesOfTerms {
     }
 
     private static void stillInBoxes(Edges doc) {
-        doc.terms("(SORTS that are STANDING are still in the BOX where they were, for all that asks of BOXES ahead of it.)");
+        doc.terms("(SORTS that are STANDING are still in the BOX where they were, for all that asks of BOXES ahead "
+                + "of it.)");
         TypeAtNight x = Calls.with("a9+4;b0-2;b0+3", "k*3+b");
         x.moves(0, 1);
         Calls.set(x, "ab", 0);

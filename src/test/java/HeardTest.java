@@ -24,16 +24,6 @@ public final class HeardTest {
         Calls.close("HeardTest");
     }
 
-    private static Supplier<TypeAtNight> hearing(Supplier<TypeAtNight> made, int... whatsAndValues) {
-        return () -> {
-            TypeAtNight x = made.get();
-            for (int j = 0; j + 1 < whatsAndValues.length; j += 2) {
-                x.heard(whatsAndValues[j], whatsAndValues[j + 1]);
-            }
-            return x;
-        };
-    }
-
     private static void heard() {
         Calls.promise("31 heard");
         TypeAtNight x = FOUR.get();
@@ -61,7 +51,7 @@ public final class HeardTest {
 
     private static void forget() {
         Calls.promise("32 forget");
-        TypeAtNight x = hearing(FOUR, 0, 0, 1, 1, 2, 0).get();
+        TypeAtNight x = Calls.hearing(FOUR, 0, 0, 1, 1, 2, 0).get();
         Calls.mark(x);
         String row = Calls.rowOf(x);
         Calls.due("forget", x.forget(), 3);
@@ -77,22 +67,22 @@ public final class HeardTest {
         Calls.promise("33 fits");
         ToIntFunction<TypeAtNight> fits = TypeAtNight::fits;
         Calls.question("fits", FOUR, fits, 15, 4);
-        Calls.question("fits LETTER 0", hearing(FOUR, 0, 0), fits, 3, 2);
-        Calls.question("fits LETTER 3", hearing(FOUR, 0, 3), fits, 0, 0);
-        Calls.question("fits WEAR 2", hearing(FOUR, 1, 2), fits, 14, 3);
-        Calls.question("fits WEAR 9", hearing(FOUR, 1, 9), fits, 8, 1);
-        Calls.question("fits WEAR 0", hearing(FOUR, 1, 0), fits, 15, 4);
-        Calls.question("fits STANDING", hearing(FOUR, 2, 1), fits, 4, 1);
-        Calls.question("fits not STANDING", hearing(FOUR, 2, 0), fits, 11, 3);
-        Calls.question("fits BOX 5", hearing(FOUR, 3, 5), fits, 2, 1);
-        Calls.question("fits BOX 0", hearing(FOUR, 3, 0), fits, 1, 1);
-        Calls.question("fits MOOD 0", hearing(FOUR, 4, 0), fits, 13, 3);
-        Calls.question("fits MOOD 3", hearing(FOUR, 4, 3), fits, 5, 2);
-        Calls.question("fits MOOD 5", hearing(FOUR, 4, 5), fits, 0, 0);
-        Calls.question("fits both", hearing(FOUR, 0, 0, 4, 0), fits, 1, 1);
-        Calls.question("fits neither", hearing(FOUR, 2, 0, 2, 1), fits, 0, 0);
-        Calls.question("fits without SORTS", hearing(TypeAtNight::new, 1, 0), fits, 0, 0);
-        TypeAtNight x = hearing(FOUR, 2, 1).get();
+        Calls.question("fits LETTER 0", Calls.hearing(FOUR, 0, 0), fits, 3, 2);
+        Calls.question("fits LETTER 3", Calls.hearing(FOUR, 0, 3), fits, 0, 0);
+        Calls.question("fits WEAR 2", Calls.hearing(FOUR, 1, 2), fits, 14, 3);
+        Calls.question("fits WEAR 9", Calls.hearing(FOUR, 1, 9), fits, 8, 1);
+        Calls.question("fits WEAR 0", Calls.hearing(FOUR, 1, 0), fits, 15, 4);
+        Calls.question("fits STANDING", Calls.hearing(FOUR, 2, 1), fits, 4, 1);
+        Calls.question("fits not STANDING", Calls.hearing(FOUR, 2, 0), fits, 11, 3);
+        Calls.question("fits BOX 5", Calls.hearing(FOUR, 3, 5), fits, 2, 1);
+        Calls.question("fits BOX 0", Calls.hearing(FOUR, 3, 0), fits, 1, 1);
+        Calls.question("fits MOOD 0", Calls.hearing(FOUR, 4, 0), fits, 13, 3);
+        Calls.question("fits MOOD 3", Calls.hearing(FOUR, 4, 3), fits, 5, 2);
+        Calls.question("fits MOOD 5", Calls.hearing(FOUR, 4, 5), fits, 0, 0);
+        Calls.question("fits both", Calls.hearing(FOUR, 0, 0, 4, 0), fits, 1, 1);
+        Calls.question("fits neither", Calls.hearing(FOUR, 2, 0, 2, 1), fits, 0, 0);
+        Calls.question("fits without SORTS", Calls.hearing(TypeAtNight::new, 1, 0), fits, 0, 0);
+        TypeAtNight x = Calls.hearing(FOUR, 2, 1).get();
         x.nights(1);
         Calls.due("what fits now", x.fits(), 0);
     }
@@ -121,20 +111,14 @@ public final class HeardTest {
         Calls.question("asks of twelve like ones", () -> Calls.with("h0+0" + ";h0+0".repeat(11)), asks, 0, 12);
         Calls.question("asks of one", () -> Calls.with("h3+0"), asks, 0, 1);
         Calls.question("asks of like ones", () -> Calls.with("h0+0;h0+0;h0+0"), asks, 0, 3);
-        Calls.question("asks of those that fit", hearing(FOUR, 2, 0, 4, 0), asks, 0, 1);
-        Calls.question("asks of one that fits", hearing(FOUR, 2, 1), asks, 0, 1);
+        Calls.question("asks of those that fit", Calls.hearing(FOUR, 2, 0, 4, 0), asks, 0, 1);
+        Calls.question("asks of one that fits", Calls.hearing(FOUR, 2, 1), asks, 0, 1);
         Calls.refused("asks of none", TypeAtNight::new, asks, -2);
-        Calls.refused("asks, none fits", hearing(FOUR, 0, 7), asks, -2);
+        Calls.refused("asks, none fits", Calls.hearing(FOUR, 0, 7), asks, -2);
     }
 
     private static Supplier<TypeAtNight> seeing(int... moods) {
-        return () -> {
-            TypeAtNight x = FOUR.get();
-            for (int j = 0; j + 2 < moods.length; j += 3) {
-                x.saw(moods[j], moods[j + 1], moods[j + 2]);
-            }
-            return x;
-        };
+        return Calls.seeing(FOUR, moods);
     }
 
     private static void saw() {
