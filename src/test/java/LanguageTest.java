@@ -48,6 +48,9 @@ public final class LanguageTest {
                 }
                 methods.add(told.append(')').append(method.getReturnType()).toString());
                 Calls.due(method.getName() + " is public", Modifier.isPublic(method.getModifiers()), true);
+                boolean throwing = List.of("sort", "box", "row").contains(method.getName());
+                Calls.due(method.getName() + " says what it throws", Arrays.toString(method.getExceptionTypes()),
+                        throwing ? "[class java.util.NoSuchElementException]" : "[]");
             }
         }
         Calls.due("methods", String.join(" ", methods), String.join(" ", new TreeSet<>(List.of(FACE.split(" ")))));
