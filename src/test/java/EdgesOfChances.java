@@ -95,7 +95,8 @@ final class EdgesOfChances {
     private static void restsCut(Edges doc) {
         doc.promise(41, "the other one half of v (cut), like ones 2 times v by 3 each (cut); each pays as much as it "
                 + "tells, and both pay 1 more, if both together tell 10 or more.");
-        // Halves and thirds that are not cut would give 2 pairs for 1, and 2 and 4 for 2 and 4; 3 is so by its half.
+        // Thirds put up, not cut, would give 2 pairs for 1 and for 2; halves put up 3 for 3 and 2 for 5. That both pay
+        // 1 more changes no pair at rest for any v, so no answer can show it.
         Calls.question("rests(1)", FOUR, x -> x.rests(1), 3, 0, 0);
         Calls.question("rests(2)", FOUR, x -> x.rests(2), 3, 0, 0);
         Calls.question("rests(3)", FOUR, x -> x.rests(3), 4, 0, 0);
