@@ -490,7 +490,8 @@ public final class TypeAtNight {
         return question;
     }
 
-    // ---- laws of mixing
+    // ---- laws of mixing (a 0 .. 5, b 1 .. 5: MOOD m beside a MOOD c becomes m and D:
+    // a times (c less m), and that by b (cut to 0); put to -9 .. 9)
 
     public int saw(int m, int c, int u) {
         if (!isMood(m) || !isMood(c) || !isMood(u)) {
@@ -965,12 +966,15 @@ public final class TypeAtNight {
         }
 
         void tell(long a, long b) {
-            tell(a);
+            clear();
+            add(a);
             add(b);
         }
 
         void tell(long a, long b, long c) {
-            tell(a, b);
+            clear();
+            add(a);
+            add(b);
             add(c);
         }
 
@@ -1254,9 +1258,6 @@ public final class TypeAtNight {
         private static final int NIGHT = 6;
         private static final int MOST_DEPTH = 4;
         private static final int MOST_DIGITS = 3;
-        private static final int COMPARISON = 1;
-        private static final int SUM = 2;
-        private static final int PRODUCT = 3;
         /** Steps: a number below THING is itself, then come things, then operators by their signs. */
         private static final int THING = 1000;
         private static final int OPERATOR = 1007;
@@ -1288,7 +1289,7 @@ public final class TypeAtNight {
                 putFirstRule();
                 return NONE;
             }
-            if (!readJoined(text, COMPARISON, 0) || at < end) {
+            if (!readExpression(text, 0) || at < end) {
                 return at;
             }
             return text.size() > end ? end : NONE;
@@ -1317,39 +1318,57 @@ public final class TypeAtNight {
             hasNight |= thing == NIGHT;
         }
 
-        /** Things joined by operators that bind at least as much as told; false: not at its place. */
-        private boolean readJoined(Text text, int binding, int depth) {
-            if (binding > PRODUCT + 1 || depth > MOST_DEPTH || !readThing(text, depth)) {
+        /** False, as of all that follow: the sign at the place that was reached can't stand there. */
+        private boolean readExpression(Text text, int depth) {
+            if (!readSum(text, depth)) {
                 return false;
             }
-            boolean compared = false;
+            int sign = at < end ? text.at(at) : 0;
+            if (sign != '<' && sign != '>' && sign != '=') {
+                return true;
+            }
+            at++;
+            if (!readSum(text, depth)) {
+                return false;
+            }
+            put(OPERATOR + sign);
+            return true;
+        }
+
+        private boolean readSum(Text text, int depth) {
+            if (!readProduct(text, depth)) {
+                return false;
+            }
             for (int joined = 0; joined < MOST_SIGNS_OF_RULE && at < end; joined++) {
                 int sign = text.at(at);
-                int own = bindingOf(sign);
-                if (own < binding || own == COMPARISON && compared) {
+                if (sign != '+' && sign != '-') {
                     return true;
                 }
                 at++;
-                if (!readJoined(text, own + 1, depth)) {
+                if (!readProduct(text, depth)) {
                     return false;
                 }
                 put(OPERATOR + sign);
-                compared |= own == COMPARISON;
             }
             return true;
         }
 
-        private static int bindingOf(int sign) {
-            switch (sign) {
-                case '<':
-                case '>':
-                case '=': return COMPARISON;
-                case '+':
-                case '-': return SUM;
-                case '*':
-                case '/': return PRODUCT;
-                default: return 0;
+        private boolean readProduct(Text text, int depth) {
+            if (!readThing(text, depth)) {
+                return false;
             }
+            for (int joined = 0; joined < MOST_SIGNS_OF_RULE && at < end; joined++) {
+                int sign = text.at(at);
+                if (sign != '*' && sign != '/') {
+                    return true;
+                }
+                at++;
+                if (!readThing(text, depth)) {
+                    return false;
+                }
+                put(OPERATOR + sign);
+            }
+            return true;
         }
 
         private boolean readThing(Text text, int depth) {
@@ -1380,7 +1399,7 @@ public final class TypeAtNight {
             int number = 0;
             int behind = Math.min(end, at + MOST_DIGITS);
             for (; at < behind && Text.stands('d', text.at(at)); at++) {
-                number = 10 * number + text.digitAt(at);
+                number = 10 * number + text.at(at) - '0';
             }
             put(number);
         }
@@ -1390,7 +1409,7 @@ public final class TypeAtNight {
                 return false;
             }
             at++;
-            if (!readJoined(text, COMPARISON, depth + 1) || at >= end || text.at(at) != ')') {
+            if (!readExpression(text, depth + 1) || at >= end || text.at(at) != ')') {
                 return false;
             }
             at++;
@@ -1638,23 +1657,23 @@ public final class TypeAtNight {
         /** The fewest boxes; place[] is the least row by which they do. */
         int fewest() {
             for (int boxes = 1; boxes < LETTERS; boxes++) {
-                if (placeFrom(0, boxes, 0)) {
+                if (placeFrom(place, apart, 0, boxes, 0)) {
                     return boxes;
                 }
             }
-            placeFrom(0, LETTERS, 0);
+            placeFrom(place, apart, 0, LETTERS, 0);
             return LETTERS;
         }
 
         /** Of the boxes not yet used only the first is tried: in the least row it is always that one. */
-        private boolean placeFrom(int letter, int boxes, int used) {
+        private static boolean placeFrom(int[] place, int[] apart, int letter, int boxes, int used) {
             if (letter >= LETTERS) {
                 return true;
             }
             for (int box = 0; box < boxes && box <= used; box++) {
-                if (mayStand(letter, box)) {
+                if (mayStand(place, apart, letter, box)) {
                     place[letter] = box;
-                    if (placeFrom(letter + 1, boxes, Math.max(used, box + 1))) {
+                    if (placeFrom(place, apart, letter + 1, boxes, Math.max(used, box + 1))) {
                         return true;
                     }
                 }
@@ -1662,7 +1681,7 @@ public final class TypeAtNight {
             return false;
         }
 
-        private boolean mayStand(int letter, int box) {
+        private static boolean mayStand(int[] place, int[] apart, int letter, int box) {
             for (int former = 0; former < letter; former++) {
                 if (place[former] == box && (apart[letter] >> former & 1) == 1) {
                     return false;

@@ -11,7 +11,7 @@ final class EdgesOfBoxes {
     private EdgesOfBoxes() {
     }
 
-    static void all(Edges doc) {
+    static void all(Document doc) {
         pairs(doc);
         noPairs(doc);
         leastRow(doc);
@@ -24,7 +24,7 @@ final class EdgesOfBoxes {
         chordRefused(doc);
     }
 
-    private static void pairs(Edges doc) {
+    private static void pairs(Document doc) {
         doc.promise(27, "THE TEXT tells pairs of letters a .. h (not alike), ; between (at most 20, 59 signs), that "
                 + "are not to be in one BOX");
         Calls.due("signs of twenty", TWENTY.length(), 59);
@@ -34,7 +34,7 @@ final class EdgesOfBoxes {
         Calls.refused("parts of a twenty-first", FOUR, TWENTY + ";cg", PARTS, -60);
     }
 
-    private static void noPairs(Edges doc) {
+    private static void noPairs(Document doc) {
         doc.promise(27, "(an empty one: no pairs): the fewest BOXES, at least 1, that all eight LETTERS need: how "
                 + "many");
         Calls.question("parts of none", FOUR, "", PARTS, 1, 0, 0, 0, 0, 0, 0, 0, 0);
@@ -44,7 +44,7 @@ final class EdgesOfBoxes {
         Calls.due("parts of none, behind twenty", x.parts(), 1);
     }
 
-    private static void leastRow(Edges doc) {
+    private static void leastRow(Document doc) {
         doc.promise(27, "the ROW: by LETTERS which (0, 1, ..; the least row).");
         Calls.question("parts: not the first that does", FOUR, "ac;cd;db", PARTS, 2, 0, 1, 1, 0, 0, 0, 0, 0);
         Calls.question("parts: the last comes as low as it can", FOUR, "ab;ah;gh", PARTS, 2, 0, 1, 0, 0, 0, 0, 0, 1);
@@ -53,7 +53,7 @@ final class EdgesOfBoxes {
                 1);
     }
 
-    private static void pairsThatCantStand(Edges doc) {
+    private static void pairsThatCantStand(Document doc) {
         doc.promise(27, "-1 - p: the sign at p can't stand there (its end, if it ends too early; the second letter, "
                 + "if it is the first; 59, if it has more and the first 59 could go on or end).");
         Calls.faults("parts that ends too early", FOUR, PARTS, -1, "a", 1, "ab;", 3, "ab;c", 4,
@@ -68,7 +68,7 @@ final class EdgesOfBoxes {
                 TWENTY.substring(0, 57) + "x;;", 57, "aa;" + TWENTY, 1);
     }
 
-    private static void mixed(Edges doc) {
+    private static void mixed(Document doc) {
         doc.promise(28, "How many SORTS are not in the BOX of their LETTER: how many; the ROW: BOXES (bits) in which "
                 + "there are SORTS of more than one LETTER.");
         ToIntFunction<TypeAtNight> mixed = TypeAtNight::mixed;
@@ -86,7 +86,7 @@ final class EdgesOfBoxes {
         }, mixed, 12, 48);
     }
 
-    private static void rubs(Edges doc) {
+    private static void rubs(Document doc) {
         doc.promise(29, "how far; the ROW: the two, the lesser first (of as far ones the least row). -2: no two are "
                 + "in one BOX.");
         ToIntFunction<TypeAtNight> rubs = TypeAtNight::rubs;
@@ -102,7 +102,7 @@ final class EdgesOfBoxes {
         Calls.refused("rubs of one LETTER in two BOXES", Calls.moved(() -> Calls.with("a0+9;a0-9"), 1, 7), rubs, -2);
     }
 
-    private static void chordOfRange(Edges doc) {
+    private static void chordOfRange(Document doc) {
         doc.promise(30, "The most SORTS that are not STANDING, no two of one LETTER, whose MOODS together are just v "
                 + "(-72 .. 72): how many");
         String high = "a0+9;b0+9;c0+9;d0+9;e0+9;f0+9;g0+9;h0+9";
@@ -115,14 +115,14 @@ final class EdgesOfBoxes {
         Calls.question("chord(0) of twelve", () -> Calls.with("a0+0" + ";a0+0".repeat(11)), x -> x.chord(0), 1, 1);
     }
 
-    private static void chordTies(Edges doc) {
+    private static void chordTies(Document doc) {
         doc.promise(30, "the ROW: they (bits: of as many the least).");
         Calls.question("chord(2)", () -> Calls.with("a0+1;b0+1;c0+1;a0+1"), x -> x.chord(2), 2, 3);
         Calls.question("chord(5), more, not the first", () -> Calls.with("a0+5;b0+2;c0+3"), x -> x.chord(5), 2, 6);
         Calls.question("chord(5), not two of one LETTER", () -> Calls.with("a0+5;b0+2;b0+3"), x -> x.chord(5), 1, 1);
     }
 
-    private static void chordOfNone(Edges doc) {
+    private static void chordOfNone(Document doc) {
         doc.promise(30, "(No SORTS at all are one set, of 0.)");
         Calls.question("chord(0) without SORTS", TypeAtNight::new, x -> x.chord(0), 0, 0);
         Calls.question("chord(0), none of MOOD 0", () -> Calls.with("a0+1;b0+2"), x -> x.chord(0), 0, 0);
@@ -130,7 +130,7 @@ final class EdgesOfBoxes {
                 0);
     }
 
-    private static void chordRefused(Edges doc) {
+    private static void chordRefused(Document doc) {
         doc.promise(30, "-100: another v; -2: there is no such set.");
         Calls.others("chord", FOUR, "", (x, v) -> x.chord(v), -72, 72, -100);
         Calls.others("chord without SORTS", TypeAtNight::new, "", (x, v) -> x.chord(v), -72, 72, -100);

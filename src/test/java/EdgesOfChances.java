@@ -9,7 +9,7 @@ final class EdgesOfChances {
     private EdgesOfChances() {
     }
 
-    static void all(Edges doc) {
+    static void all(Document doc) {
         tenths(doc);
         oneBroken(doc);
         readsRefused(doc);
@@ -27,7 +27,7 @@ final class EdgesOfChances {
         draws(doc);
     }
 
-    private static void tenths(Edges doc) {
+    private static void tenths(Document doc) {
         doc.promise(39, "Each SORT that THE TEXT would take breaks by p tenths (0 .. 10), each by itself");
         Calls.question("reads(0)", TWELVE, "a".repeat(12), x -> x.reads(0), 0, 1, 1);
         Calls.question("reads(10) of twelve", TWELVE, "a".repeat(12), x -> x.reads(10), 0, 0, 1);
@@ -35,7 +35,7 @@ final class EdgesOfChances {
         Calls.question("reads(9) of twelve", TWELVE, "a".repeat(12), x -> x.reads(9), 0, 109, 1000000000000L);
     }
 
-    private static void oneBroken(Edges doc) {
+    private static void oneBroken(Document doc) {
         doc.promise(39, "how likely it can be read (one is broken at most): 0; the ROW: the fraction.");
         for (int p = 0; p <= 10; p++) {
             int of = p;
@@ -46,7 +46,7 @@ final class EdgesOfChances {
         Calls.question("reads(9) of two", FOUR, "ab", x -> x.reads(9), 0, 19, 100);
     }
 
-    private static void readsRefused(Edges doc) {
+    private static void readsRefused(Document doc) {
         doc.promise(39, "-1 - p: as sets(); -100: another p; -101: there are not SORTS enough.");
         Calls.faults("reads(5)", FOUR, x -> x.reads(5), -1, "", 0, "x", 0, "ai", 1, "a".repeat(13), 12,
                 "a".repeat(12) + "x", 12);
@@ -58,7 +58,7 @@ final class EdgesOfChances {
         Calls.refused("reads, one is STANDING", () -> Calls.set(FOUR.get(), "c", 0), "abc", x -> x.reads(10), -101);
     }
 
-    private static void galley(Edges doc) {
+    private static void galley(Document doc) {
         doc.promise(40, "a galley of n (0 .. 60) letters in a row two that are beside each other (others stay where "
                 + "they are), or the only one of a row of one; who takes the last has won");
         Calls.question("galley(0)", FOUR, x -> x.galley(0), 0);
@@ -69,7 +69,7 @@ final class EdgesOfChances {
         Calls.question("galley(59)", FOUR, x -> x.galley(59), 1, 0);
     }
 
-    private static void galleyTies(Edges doc) {
+    private static void galleyTies(Document doc) {
         doc.promise(40, "the ROW: how many letters are to the left of those that he takes (the least such; nothing "
                 + "without). NONE: another n.");
         // Worths of rows by hand: 0 1 1 0 2 1 3 0; so these are all that are lost.
@@ -85,14 +85,14 @@ final class EdgesOfChances {
         Calls.others("galley", FOUR, "", (y, n) -> y.galley(n), 0, 60, -1);
     }
 
-    private static void rests(Edges doc) {
+    private static void rests(Document doc) {
         doc.promise(41, "Two papers tell x and y (0 .. 9) of a murder: who tells more sells v (0 .. 20)");
         Calls.question("rests(0)", FOUR, x -> x.rests(0), 1, 0, 0);
         Calls.question("rests(20)", FOUR, x -> x.rests(20), 0);
         Calls.question("rests(4): who tells more is content", FOUR, x -> x.rests(4), 2, 0, 1);
     }
 
-    private static void restsCut(Edges doc) {
+    private static void restsCut(Document doc) {
         doc.promise(41, "the other one half of v (cut), like ones 2 times v by 3 each (cut); each pays as much as it "
                 + "tells, and both pay 1 more, if both together tell 10 or more.");
         // Thirds put up, not cut, would give 2 pairs for 1 and for 2; halves put up 3 for 3 and 2 for 5. That both pay
@@ -103,7 +103,7 @@ final class EdgesOfChances {
         Calls.question("rests(5)", FOUR, x -> x.rests(5), 0);
     }
 
-    private static void restsWithout(Edges doc) {
+    private static void restsWithout(Document doc) {
         doc.promise(41, "the ROW: the least (nothing without). NONE: another v.");
         for (int v = 5; v <= 20; v++) {
             int of = v;
@@ -112,7 +112,7 @@ final class EdgesOfChances {
         Calls.others("rests", FOUR, "", (x, v) -> x.rests(v), 0, 20, -1);
     }
 
-    private static void lawOfNone(Edges doc) {
+    private static void lawOfNone(Document doc) {
         doc.promise(42, "THE TEXT is another RULE (an empty one: none)");
         ToIntFunction<TypeAtNight> law = TypeAtNight::law;
         Calls.question("law of none", FOUR, "", law, 0, 3, 3, 11, 11, 11, 10);
@@ -122,7 +122,7 @@ final class EdgesOfChances {
         Calls.question("law of forty signs", FOUR, "-".repeat(39) + "0", law, 6, 9, 3, 14, 8, 13, 10);
     }
 
-    private static void lawOfFive(Edges doc) {
+    private static void lawOfFive(Document doc) {
         doc.promise(42, "in 5 NIGHTS by it, less that by THE RULE (below 0, too); the ROW: both, by it first, then "
                 + "10 and MOODS of SORTS then by it.");
         ToIntFunction<TypeAtNight> law = TypeAtNight::law;
@@ -136,7 +136,7 @@ final class EdgesOfChances {
                 "k", law, 10, 12, 2, 16, 16);
     }
 
-    private static void lawThatCantStand(Edges doc) {
+    private static void lawThatCantStand(Document doc) {
         doc.promise(42, "-10000 - p: the sign at p can't stand there (as rule()).");
         String forty = "-m" + "+m".repeat(19);
         Calls.faults("law", FOUR, TypeAtNight::law, -10000, "x", 0, ")", 0, "m+", 2, "m<w<l", 3, "(((((m", 4, "1000", 3,
@@ -149,7 +149,7 @@ final class EdgesOfChances {
         Calls.due("THE RULE stays", x.sort(0, 5), 13);
     }
 
-    private static void years(Edges doc) {
+    private static void years(Document doc) {
         doc.promise(43, "n times (1 .. 60): a DRAW of 4 tells: 0, 1: A NIGHT; 2: a DRAW of SORTS one, a DRAW of 19 "
                 + "less 9 its MOOD then; 3: a DRAW of SORTS one, a DRAW of 8 a BOX: moves(), if it can be");
         Supplier<TypeAtNight> three = () -> Calls.with("a0+4;b0-2;c0+1", "1");
@@ -165,7 +165,7 @@ final class EdgesOfChances {
         Calls.question("sixty times", three, x -> x.years(7, 60), 1, 227);
     }
 
-    private static void yearsOfSorts(Edges doc) {
+    private static void yearsOfSorts(Document doc) {
         doc.promise(43, "(2, 3: nothing, no DRAWS more, without SORTS): how many SORTS are in the BOX of their "
                 + "LETTER then; the ROW: 200 and MOODS of all together then.");
         for (int seed = 0; seed <= 5; seed++) {
@@ -180,14 +180,14 @@ final class EdgesOfChances {
         Calls.each("one that comes behind it", x, 2, 12);
     }
 
-    private static void yearsRefused(Edges doc) {
+    private static void yearsRefused(Document doc) {
         doc.promise(43, "NONE: another n.");
         Calls.others("years", FOUR, "", (x, n) -> x.years(1, n), 1, 60, -1);
         Calls.refused("years(1, -1)", FOUR, x -> x.years(1, -1), -1);
         Calls.others("years without SORTS", TypeAtNight::new, "", (x, n) -> x.years(1, n), 1, 60, -1);
     }
 
-    private static void draws(Edges doc) {
+    private static void draws(Document doc) {
         doc.promise(43, "A DRAW of n: R = R times 1103515245 + 12345 (as ints; R is seed at first), (R without sign, "
                 + "by 65536) % n.");
         int[] seeds = {0, 1, -1, Integer.MAX_VALUE, Integer.MIN_VALUE, 3, 123456789, -987654321};

@@ -13,7 +13,7 @@ final class EdgesOfHeard {
     private EdgesOfHeard() {
     }
 
-    static void all(Edges doc) {
+    static void all(Document doc) {
         heard(doc);
         heardRefused(doc);
         forget(doc);
@@ -29,7 +29,7 @@ final class EdgesOfHeard {
         looksOfNone(doc);
     }
 
-    private static void heard(Edges doc) {
+    private static void heard(Document doc) {
         doc.promise(31, "what 0: LETTER is v (0 .. 7); 1: WEAR is v (0 .. 9) or more; 2: it is STANDING (1) or not "
                 + "(0); 3: its BOX is v (0 .. 7); 4: MOOD is v (0 .. 9) or more: how many such.");
         int[] most = {7, 9, 1, 7, 9};
@@ -61,7 +61,7 @@ final class EdgesOfHeard {
         Calls.question("fits " + what, Calls.hearing(FOUR, heard), TypeAtNight::fits, want, Long.bitCount(want));
     }
 
-    private static void heardRefused(Edges doc) {
+    private static void heardRefused(Document doc) {
         doc.promise(31, "Refused: others, 12.");
         Calls.others("heard of 0", FOUR, "", (x, what) -> x.heard(what, 0), 0, 4, -1);
         TypeAtNight x = FOUR.get();
@@ -75,7 +75,7 @@ final class EdgesOfHeard {
         Calls.due("heard anew", x.heard(0, 2), 1);
     }
 
-    private static void forget(Edges doc) {
+    private static void forget(Document doc) {
         doc.promise(32, "It is forgotten: how many there were.");
         TypeAtNight x = Calls.hearing(FOUR, 0, 7).get();
         Calls.due("forget of one", x.forget(), 1);
@@ -85,7 +85,7 @@ final class EdgesOfHeard {
         Calls.due("forget of a new object", new TypeAtNight().forget(), 0);
     }
 
-    private static void fits(Edges doc) {
+    private static void fits(Document doc) {
         doc.promise(33, "SORTS (bits) that fit all that was heard now; the ROW: how many.");
         fitting("nothing heard", 15);
         fitting("both", 1, 0, 0, 4, 0);
@@ -99,7 +99,7 @@ final class EdgesOfHeard {
         Calls.due("now it is again", x.fits(), 4);
     }
 
-    private static void asks(Edges doc) {
+    private static void asks(Document doc) {
         doc.promise(34, "the fewest such SORTS are left at most: 10 times what and v, as they may be heard, of equal "
                 + "ones the least: it; the ROW: how many at most.");
         ToIntFunction<TypeAtNight> asks = TypeAtNight::asks;
@@ -122,7 +122,7 @@ final class EdgesOfHeard {
         Calls.question("asks of those below 0", () -> Calls.with("a0-1;a0-9"), asks, 0, 2);
     }
 
-    private static void asksOfNone(Edges doc) {
+    private static void asksOfNone(Document doc) {
         doc.promise(34, "-2: none fits.");
         Calls.refused("asks without SORTS", TypeAtNight::new, TypeAtNight::asks, -2);
         Calls.refused("asks, none fits", Calls.hearing(FOUR, 0, 7), TypeAtNight::asks, -2);
@@ -132,7 +132,7 @@ final class EdgesOfHeard {
         return Calls.seeing(TypeAtNight::new, moods);
     }
 
-    private static void saw(Edges doc) {
+    private static void saw(Document doc) {
         doc.promise(35, "It was seen that MOOD m (-9 .. 9) beside c (-9 .. 9) became u (-9 .. 9): how many such.");
         TypeAtNight x = new TypeAtNight();
         for (int j = 0; j < 8; j++) {
@@ -143,7 +143,7 @@ final class EdgesOfHeard {
         Calls.others("saw u", seeing(), "", (y, u) -> y.saw(0, 0, u), -9, 9, -1);
     }
 
-    private static void sawRefused(Edges doc) {
+    private static void sawRefused(Document doc) {
         doc.promise(35, "Refused: others, 10.");
         TypeAtNight x = new TypeAtNight();
         for (int n = 1; n <= 10; n++) {
@@ -157,7 +157,7 @@ final class EdgesOfHeard {
         Calls.due("it is seen", x.laws(), 15);
     }
 
-    private static void denies(Edges doc) {
+    private static void denies(Document doc) {
         doc.promise(36, "It is denied: how many there were.");
         TypeAtNight x = seeing(3, 3, 4).get();
         Calls.due("denies of one", x.denies(), 1);
@@ -166,7 +166,7 @@ final class EdgesOfHeard {
         Calls.due("all laws fit", x.laws(), 30);
     }
 
-    private static void mixingByTerms(Edges doc) {
+    private static void mixingByTerms(Document doc) {
         doc.terms("laws of mixing (a 0 .. 5, b 1 .. 5: MOOD m beside a MOOD c becomes m and D: a times (c less m), "
                 + "and that by b (cut to 0); put to -9 .. 9).");
         ToIntFunction<TypeAtNight> laws = TypeAtNight::laws;
@@ -181,7 +181,7 @@ final class EdgesOfHeard {
         Calls.question("put to 9 from 8", seeing(8, 9, 9), laws, 15, 1, 1);
     }
 
-    private static void laws(Edges doc) {
+    private static void laws(Document doc) {
         doc.promise(37, "Laws (30 of them) that fit all that was seen: how many; the ROW: the least a, b (nothing "
                 + "without).");
         ToIntFunction<TypeAtNight> laws = TypeAtNight::laws;
@@ -192,7 +192,7 @@ final class EdgesOfHeard {
         Calls.question("laws, one", seeing(0, 4, 3, 0, 5, 3, 0, 8, 6), laws, 1, 3, 4);
     }
 
-    private static void looks(Edges doc) {
+    private static void looks(Document doc) {
         doc.promise(38, "so that, whatever comes, the fewest laws are left at most: 19 times 9 and m, and 9 and c, "
                 + "of equal ones the least; the ROW: how many at most.");
         ToIntFunction<TypeAtNight> looks = TypeAtNight::looks;
@@ -203,7 +203,7 @@ final class EdgesOfHeard {
         Calls.question("looks of those of 1 to 1 and more", seeing(0, 3, 3), looks, 4, 5);
     }
 
-    private static void looksOfNone(Edges doc) {
+    private static void looksOfNone(Document doc) {
         doc.promise(38, "-2: none fits.");
         Calls.refused("looks, none fits", seeing(3, 3, 4), TypeAtNight::looks, -2);
     }

@@ -7,7 +7,7 @@ final class EdgesOfKept {
     private EdgesOfKept() {
     }
 
-    static void all(Edges doc) {
+    static void all(Document doc) {
         keep(doc);
         again(doc);
         againRefused(doc);
@@ -16,7 +16,7 @@ final class EdgesOfKept {
         row(doc);
     }
 
-    private static void keep(Edges doc) {
+    private static void keep(Document doc) {
         doc.promise(44, "What undo() brings back is kept under a number 0 .. 1: true. Refused: others.");
         for (int i = 0; i <= 1; i++) {
             int of = i;
@@ -41,7 +41,7 @@ final class EdgesOfKept {
         Calls.due("NIGHT, kept last", x.count(1), 2);
     }
 
-    private static void again(Edges doc) {
+    private static void again(Document doc) {
         doc.promise(45, "It is as it was kept under a number.");
         TypeAtNight x = Calls.set(FOUR.get(), "ac", 3);
         x.nights(2);
@@ -71,7 +71,7 @@ final class EdgesOfKept {
         Calls.due("NIGHT", none.count(1), 0);
     }
 
-    private static void againRefused(Edges doc) {
+    private static void againRefused(Document doc) {
         doc.promise(45, "Refused: nothing kept, SORTS came since.");
         Supplier<TypeAtNight> cleaned = () -> {
             TypeAtNight x = FOUR.get();
@@ -113,7 +113,7 @@ final class EdgesOfKept {
         Calls.due("again(0): kept anew", x.again(0), true);
     }
 
-    private static void countOfLimits(Edges doc) {
+    private static void countOfLimits(Document doc) {
         doc.promise(46, "What 0: SORTS, 1: NIGHT, 2: which are STANDING (bits), 3: WEAR of all, 4: 200 and MOODS of "
                 + "all, 5: how many are in the BOX of their LETTER, 6: what was heard, 7: what was seen, 8: what can "
                 + "be undone, 9: numbers of the ROW, 10: signs of THE TEXT.");
@@ -135,13 +135,13 @@ final class EdgesOfKept {
         Calls.due("the greatest MOODS", Calls.with("h0+9" + ";h0+9".repeat(11)).count(4), 308);
     }
 
-    private static void countRefused(Edges doc) {
+    private static void countRefused(Document doc) {
         doc.promise(46, "NONE for another what.");
         Calls.others("count", FOUR, "", (x, what) -> x.count(what), 0, 10, -1);
         Calls.others("count without SORTS", TypeAtNight::new, "", (x, what) -> x.count(what), 0, 10, -1);
     }
 
-    private static void row(Edges doc) {
+    private static void row(Document doc) {
         doc.promise(47, "Number i of the ROW. NoSuchElementException: none such.");
         TypeAtNight x = FOUR.get();
         Calls.noSuch("row(0) of none", () -> x.row(0));

@@ -12,7 +12,7 @@ final class EdgesOfLater {
     private EdgesOfLater() {
     }
 
-    static void all(Edges doc) {
+    static void all(Document doc) {
         later(doc);
         laterRefused(doc);
         settles(doc);
@@ -30,7 +30,7 @@ final class EdgesOfLater {
         return () -> Calls.with(sorts, rule);
     }
 
-    private static void later(Edges doc) {
+    private static void later(Document doc) {
         doc.promise(22, "10 and MOOD of a SORT in n NIGHTS (0 .. 99); the ROW: its BOX then, 200 and MOODS of all "
                 + "together then.");
         Calls.question("later(0, 0)", UP, x -> x.later(0, 0), 5, 0, 203);
@@ -45,7 +45,7 @@ final class EdgesOfLater {
         Calls.question("later(0, 1), STANDING, behind BOX 7", worn, x -> x.later(0, 1), 13, 0, 203);
     }
 
-    private static void laterRefused(Edges doc) {
+    private static void laterRefused(Document doc) {
         doc.promise(22, "NONE: others.");
         Calls.others("later in 1", FOUR, "", (x, sort) -> x.later(sort, 1), 0, 3, -1);
         Calls.others("later of 0", FOUR, "", (x, n) -> x.later(0, n), 0, 99, -1);
@@ -53,7 +53,7 @@ final class EdgesOfLater {
         Calls.refused("later without SORTS", TypeAtNight::new, x -> x.later(0, 0), -1);
     }
 
-    private static void settles(Edges doc) {
+    private static void settles(Document doc) {
         doc.promise(23, "Behind how many NIGHTS (0 .. 96) no MOOD changes in the next three, first: how many; the "
                 + "ROW: 200 and MOODS of all together then.");
         ToIntFunction<TypeAtNight> settles = TypeAtNight::settles;
@@ -70,14 +70,14 @@ final class EdgesOfLater {
         }, settles, 0, 208);
     }
 
-    private static void settlesNever(Edges doc) {
+    private static void settlesNever(Document doc) {
         doc.promise(23, "-2: behind none of these.");
         Calls.refused("settles behind 97", with("a0+3;a0-1", CLOCK), TypeAtNight::settles, -2);
         Calls.refused("settles never", with("a0+5", "-m-m"), TypeAtNight::settles, -2);
         Calls.refused("settles never, the last of twelve", with(TWELVE, "(i=11)*(-m-m)"), TypeAtNight::settles, -2);
     }
 
-    private static void round(Edges doc) {
+    private static void round(Document doc) {
         doc.promise(24, "Behind how many NIGHTS (1 .. 99) all is as it was behind fewer (MOODS, BOXES, who is "
                 + "STANDING, the rest of NIGHT by 7) first: how many; the ROW: behind how many it was so.");
         ToIntFunction<TypeAtNight> round = TypeAtNight::round;
@@ -103,12 +103,12 @@ final class EdgesOfLater {
                 14, 0);
     }
 
-    private static void roundNever(Edges doc) {
+    private static void roundNever(Document doc) {
         doc.promise(24, "-2: behind none of these.");
         Calls.refused("round behind 100", with("a0+7;a0-1", CLOCK), TypeAtNight::round, -2);
     }
 
-    private static void gravest(Edges doc) {
+    private static void gravest(Document doc) {
         doc.promise(25, "The SORT whose MOOD is the farthest from 0 in n NIGHTS (0 .. 99): of equal ones the first: "
                 + "it; the ROW: 10 and MOOD then, 10 and MOOD now.");
         Supplier<TypeAtNight> two = with("a0-5;b0+5", "1");
@@ -122,7 +122,7 @@ final class EdgesOfLater {
         Calls.question("gravest(0) of none but 0", with("a0+0;b0-0", "0"), x -> x.gravest(0), 0, 10, 10);
     }
 
-    private static void gravestRefused(Edges doc) {
+    private static void gravestRefused(Document doc) {
         doc.promise(25, "-2: there are none; NONE: another n.");
         Calls.refused("gravest(0)", TypeAtNight::new, x -> x.gravest(0), -2);
         Calls.refused("gravest(99)", TypeAtNight::new, x -> x.gravest(99), -2);
@@ -130,7 +130,7 @@ final class EdgesOfLater {
         Calls.others("gravest of none", TypeAtNight::new, "", (x, n) -> x.gravest(n), 0, 99, -1);
     }
 
-    private static void blowsByRange(Edges doc) {
+    private static void blowsByRange(Document doc) {
         doc.promise(26, "The fewest SORTS (STANDING or not) to be cleaned now (MOOD 0) so that in n NIGHTS (0 .. 20) "
                 + "MOODS of all are v (0 .. 9) or less from 0: how many");
         Calls.question("blows(0, 0) without SORTS", TypeAtNight::new, x -> x.blows(0, 0), 0, 0);
@@ -147,7 +147,7 @@ final class EdgesOfLater {
         Calls.question("blows of all twelve", with("h0-9" + ";h0-9".repeat(11), "0"), x -> x.blows(20, 0), 12, 4095);
     }
 
-    private static void blowsTies(Edges doc) {
+    private static void blowsTies(Document doc) {
         doc.promise(26, "the ROW: they (bits: of as few the least). -2: by none; NONE: others.");
         Calls.question("of as few the least", with("a0+6;a0+6;a0+6", "b"), x -> x.blows(1, 6), 2, 3);
         Calls.question("of as few the least in two BOXES", with("b0+5;a0+5;a0+5;b0+5", "b"), x -> x.blows(1, 5), 2, 3);
@@ -157,7 +157,7 @@ final class EdgesOfLater {
         Calls.refused("blows(1, 0) by none in the last BOX", with("a0+0;h0+0", "l=7"), x -> x.blows(1, 0), -2);
     }
 
-    private static void blowsRefused(Edges doc) {
+    private static void blowsRefused(Document doc) {
         doc.promise(26, "-2: by none; NONE: others.");
         Calls.others("blows to 0", FOUR, "", (x, n) -> x.blows(n, 0), 0, 20, -1);
         Calls.others("blows in 1", FOUR, "", (x, v) -> x.blows(1, v), 0, 9, -1);

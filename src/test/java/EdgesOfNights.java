@@ -12,7 +12,7 @@ final class EdgesOfNights {
     private EdgesOfNights() {
     }
 
-    static void all(Edges doc) {
+    static void all(Document doc) {
         feelings(doc);
         textsThatCantStand(doc);
         setsRefused(doc);
@@ -34,7 +34,7 @@ final class EdgesOfNights {
         undoForgotten(doc);
     }
 
-    private static void feelings(Edges doc) {
+    private static void feelings(Document doc) {
         doc.promise(9, "THE TEXT is SET with a FEELING v (-9 .. 9): SORTS that it took (bits); the ROW: 200 and "
                 + "MOODS of these together, as they were ahead of it, then.");
         for (int v : new int[] {-9, -1, 0, 1, 9}) {
@@ -47,7 +47,7 @@ final class EdgesOfNights {
         Calls.row("sets of all", all, 92, 92);
     }
 
-    private static void textsThatCantStand(Edges doc) {
+    private static void textsThatCantStand(Document doc) {
         doc.promise(9, "-1 - p: the sign at p can't stand there (its end for none; a thirteenth: at it).");
         Calls.faults("sets", TWELVE, x -> x.sets(0), -1, "", 0, "i", 0, "`", 0, "A", 0, ";", 0, "\0", 0, "\u00e1", 0,
                 "ai", 1, "a".repeat(11) + "i", 11, "a".repeat(12) + "a", 12, "a".repeat(12) + "i", 12,
@@ -55,7 +55,7 @@ final class EdgesOfNights {
         Calls.due("twelve", Calls.put(TWELVE.get(), "a".repeat(12)).sets(0), 4095);
     }
 
-    private static void setsRefused(Edges doc) {
+    private static void setsRefused(Document doc) {
         doc.promise(9, "-100: another v; -101: there are not SORTS enough (these in that order; nothing is SET "
                 + "then).");
         Calls.others("sets", FOUR, "ab", (x, v) -> x.sets(v), -9, 9, -100);
@@ -67,7 +67,7 @@ final class EdgesOfNights {
         Calls.due("sets, just enough", Calls.put(FOUR.get(), "aabc").sets(1), 15);
     }
 
-    private static void nights(Edges doc) {
+    private static void nights(Document doc) {
         doc.promise(10, "n NIGHTS (0 .. 60): how many SORTS are in the BOX of their LETTER then; the ROW: 200 and "
                 + "MOODS of all together then. Refused: another n.");
         TypeAtNight x = Calls.set(FOUR.get(), "c", 0);
@@ -84,7 +84,7 @@ final class EdgesOfNights {
         Calls.others("nights", () -> Calls.set(FOUR.get(), "c", 0), "", (y, n) -> y.nights(n), 0, 60, -1);
     }
 
-    private static void moves(Edges doc) {
+    private static void moves(Document doc) {
         doc.promise(11, "A SORT that is not STANDING is put into a BOX (0 .. 7): 10 and the one where it was.");
         TypeAtNight x = Calls.with("a0+0;h0+0");
         Calls.due("moves(0, 7)", x.moves(0, 7), 10);
@@ -94,7 +94,7 @@ final class EdgesOfNights {
         Calls.due("moves(11, 7)", TWELVE.get().moves(11, 7), 10);
     }
 
-    private static void movesRefused(Edges doc) {
+    private static void movesRefused(Document doc) {
         doc.promise(11, "-2: it is STANDING; -3: it is there; NONE: others.");
         Supplier<TypeAtNight> standing = () -> Calls.set(FOUR.get(), "bc", 0);
         for (int sort = 2; sort <= 3; sort++) {
@@ -115,12 +115,12 @@ final class EdgesOfNights {
         Calls.others("moves of twelve", TWELVE, "", (x, sort) -> x.moves(sort, 1), 0, 11, -1);
     }
 
-    private static void cleans(Edges doc) {
+    private static void cleans(Document doc) {
         doc.promise(12, "-2: it is 0; NONE: none such.");
         putTo0("cleans", (x, sort) -> x.cleans(sort), 2, "a0+9;b1-9;c9+0", 19, 1);
     }
 
-    private static void casts(Edges doc) {
+    private static void casts(Document doc) {
         doc.promise(13, "-2: it is 0; NONE: none such.");
         putTo0("casts", (x, sort) -> x.casts(sort), 1, "a9+0;b1-9;c0+9", 9, 1);
     }
@@ -156,14 +156,14 @@ final class EdgesOfNights {
         return x;
     }
 
-    private static void weekEmpty(Edges doc) {
+    private static void weekEmpty(Document doc) {
         doc.promise(14, "THE TEXT tells A WEEK (an empty one: nothing)");
         week(FOUR, "", 0, 0, 0);
         week(() -> Calls.set(FOUR.get(), "ab", 0), "", 0, 0, 2);
         week(TypeAtNight::new, "", 0, 0, 0);
     }
 
-    private static void weekOfNights(Edges doc) {
+    private static void weekOfNights(Document doc) {
         doc.promise(14, "ACTS one behind another, without signs between: N and a digit (nights())");
         Calls.due("NIGHT", week(FOUR, "N9", 1, 0, 0).count(1), 9);
         Calls.due("NIGHT", week(FOUR, "N0", 1, 0, 0).count(1), 0);
@@ -172,7 +172,7 @@ final class EdgesOfNights {
                 "N10", 2, "n1", 0, " N1", 0);
     }
 
-    private static void weekOfLetters(Edges doc) {
+    private static void weekOfLetters(Document doc) {
         doc.promise(14, "S, + or -, a digit and letters a .. h, at least one and at most 12, a thirteenth can't "
                 + "stand there (sets() of these, with that FEELING)");
         Calls.each("MOOD", week(TWELVE, "S+9" + "a".repeat(12), 1, 0, 12), 2, 19, 19, 19, 19, 19, 19, 19, 19, 19, 19,
@@ -185,7 +185,7 @@ final class EdgesOfNights {
                 "S+12a", 3);
     }
 
-    private static void weekOfMoves(Edges doc) {
+    private static void weekOfMoves(Document doc) {
         doc.promise(14, "M, two digits and a digit 0 .. 7 (moves())");
         Calls.each("BOX", week(FOUR, "M007M017M000", 3, 0, 0), 3, 0, 7, 1, 2);
         Calls.due("BOX", week(TWELVE, "M117M110", 2, 0, 0).sort(11, 3), 0);
@@ -193,7 +193,7 @@ final class EdgesOfNights {
                 "M0a1", 2, "Ma01", 1, "M0011", 4, "M-11", 1);
     }
 
-    private static void weekOfCleaning(Edges doc) {
+    private static void weekOfCleaning(Document doc) {
         doc.promise(14, "C and two digits (cleans()), F and two digits (casts())");
         Calls.due("MOOD", week(TWELVE, "C11", 1, 0, 0).sort(11, 2), 10);
         Calls.due("WEAR", week(FOUR, "F03F01", 2, 0, 0).sort(3, 1), 0);
@@ -201,7 +201,7 @@ final class EdgesOfNights {
                 "F0C", 2, "FN", 1, "F000", 3);
     }
 
-    private static void weekStuck(Edges doc) {
+    private static void weekStuck(Document doc) {
         doc.promise(14, "they are done one by one, till one can't be (it answers below 0): how many were done; the "
                 + "ROW: 1 if one could not be, else 0; how many are STANDING then.");
         String[] cant = {"S+1d", "S+1aaa", "M000", "M040", "M990", "C03", "C04", "C99", "F00", "F04", "F99"};
@@ -216,7 +216,7 @@ final class EdgesOfNights {
         week(TypeAtNight::new, "N9C00", 1, 1, 0);
     }
 
-    private static void weekThatCantStand(Edges doc) {
+    private static void weekThatCantStand(Document doc) {
         doc.promise(14, "-1 - p: the sign at p can't stand there (its end, if it ends too early; 60, if it has more "
                 + "and the first 60 could go on or end); nothing is done then.");
         String sixty = "N1".repeat(30);
@@ -234,7 +234,7 @@ final class EdgesOfNights {
         Calls.faults("week, wrong behind what could be done", FOUR, WEEK, -1, "S+1aN9C00x", 9, "M005N", 5, "C00C", 4);
     }
 
-    private static void undoOfTwelve(Edges doc) {
+    private static void undoOfTwelve(Document doc) {
         doc.promise(15, "(of 12 that are kept, the latest ones; such as were done; nights() of 1 and more, week() of "
                 + "which one ACT was done, as one) is undone (all of SORTS but LETTERS, NIGHT are as ahead of it): "
                 + "how many are left that can be.");
@@ -254,7 +254,7 @@ final class EdgesOfNights {
         }
     }
 
-    private static void undoOfWhatWasDone(Edges doc) {
+    private static void undoOfWhatWasDone(Document doc) {
         doc.promise(15, "such as were done; nights() of 1 and more, week() of which one ACT was done, as one");
         TypeAtNight x = Calls.set(FOUR.get(), "a", 1);
         int kept = 1;
@@ -283,7 +283,7 @@ final class EdgesOfNights {
         Calls.due("a week of which one ACT was done", x.count(8), kept + 1);
     }
 
-    private static void undoRefused(Edges doc) {
+    private static void undoRefused(Document doc) {
         doc.promise(15, "Refused: none.");
         Calls.refused("undo", FOUR, TypeAtNight::undo, -1);
         Calls.refused("undo without SORTS", TypeAtNight::new, TypeAtNight::undo, -1);
@@ -294,7 +294,7 @@ final class EdgesOfNights {
         }, TypeAtNight::undo, -1);
     }
 
-    private static void undoForgotten(Edges doc) {
+    private static void undoForgotten(Document doc) {
         doc.promise(15, "(sorts() and again() forget them, if they are not refused; an empty sorts() does not.)");
         TypeAtNight x = FOUR.get();
         x.keep(0);

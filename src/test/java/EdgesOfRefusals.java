@@ -22,7 +22,7 @@ final class EdgesOfRefusals {
     private EdgesOfRefusals() {
     }
 
-    static void all(Edges doc) {
+    static void all(Document doc) {
         row(doc);
         rowsCompared(doc);
         fractions(doc);
@@ -152,7 +152,7 @@ final class EdgesOfRefusals {
                 asking("years(7, 60)", x -> x.years(7, 60)));
     }
 
-    private static void row(Edges doc) {
+    private static void row(Document doc) {
         doc.terms("ROW: numbers told last by a call that says so.");
         TypeAtNight x = Calls.with("a0+4;b0-2");
         Calls.due("numbers at first", x.count(9), 0);
@@ -164,7 +164,7 @@ final class EdgesOfRefusals {
         Calls.row("galley, which tells none", x);
     }
 
-    private static void rowsCompared(Edges doc) {
+    private static void rowsCompared(Document doc) {
         doc.terms("Rows of numbers are compared from the first on.");
         TypeAtNight x = Calls.with("a0+9;b0+9;b0+0;a0+0");
         Calls.due("rubs", x.rubs(), 9);
@@ -175,7 +175,7 @@ final class EdgesOfRefusals {
         Calls.row("rests: 0 1 is less than 1 0", x, 0, 1);
     }
 
-    private static void fractions(Edges doc) {
+    private static void fractions(Document doc) {
         doc.terms("Fractions are told in lowest terms, upper and lower number (0 by 1).");
         Supplier<TypeAtNight> two = () -> Calls.with("a0+0;b0+0");
         Calls.question("reads: nothing", two, "ab", x -> x.reads(10), 0, 0, 1);
@@ -184,7 +184,7 @@ final class EdgesOfRefusals {
         Calls.question("reads: 99 of 100", two, "ab", x -> x.reads(1), 0, 99, 100);
     }
 
-    private static void questions(Edges doc) {
+    private static void questions(Document doc) {
         doc.terms("Questions change nothing.");
         for (Question question : questionsAnswered()) {
             TypeAtNight x = RICH.get();
@@ -211,7 +211,7 @@ final class EdgesOfRefusals {
         return seen.toString();
     }
 
-    private static void nightsToCome(Edges doc) {
+    private static void nightsToCome(Document doc) {
         doc.terms("What is asked of NIGHTS to come is asked as if nothing else were done.");
         for (int n = 0; n <= 60; n += 20) {
             TypeAtNight x = RICH.get();
@@ -226,7 +226,7 @@ final class EdgesOfRefusals {
         }
     }
 
-    private static void refused(Edges doc) {
+    private static void refused(Document doc) {
         doc.terms("Refused calls answer NONE, or false, and change nothing but THE TEXT");
         for (Call call : refusedByNumbers()) {
             Calls.refused(call.name, RICH, call.asked, call.want);
@@ -236,7 +236,7 @@ final class EdgesOfRefusals {
         }
     }
 
-    private static void textThatIsRead(Edges doc) {
+    private static void textThatIsRead(Document doc) {
         doc.terms("which a call that reads it empties.");
         for (Call call : refusedByNumbers()) {
             TypeAtNight x = RICH.get();
@@ -274,7 +274,7 @@ final class EdgesOfRefusals {
         Calls.due("signs behind what is done", x.count(10), 2);
     }
 
-    private static void noneAhead(Edges doc) {
+    private static void noneAhead(Document doc) {
         doc.terms("NONE comes ahead of other answers below 0, if not said otherwise");
         Calls.refused("moves of one that is STANDING to no BOX", RICH, x -> x.moves(0, 8), -1);
         Calls.refused("moves of one that is STANDING to BOX -1", RICH, x -> x.moves(0, -1), -1);
@@ -289,7 +289,7 @@ final class EdgesOfRefusals {
         Calls.refused("sheet that is missing, of 13", grave, x -> x.sheet(3, 13, 1, 1), -1);
     }
 
-    private static void textAhead(Edges doc) {
+    private static void textAhead(Document doc) {
         doc.terms("-1 - p of a text comes ahead of all");
         Calls.refused("sets(10), too few", RICH, "hx", x -> x.sets(10), -2);
         Calls.refused("sets(-10) of none", RICH, "", x -> x.sets(-10), -1);
@@ -300,7 +300,7 @@ final class EdgesOfRefusals {
         Calls.refused("spans, too few", RICH, "h".repeat(13), TypeAtNight::spans, -13);
     }
 
-    private static void rowStays(Edges doc) {
+    private static void rowStays(Document doc) {
         doc.terms("the ROW stays with each answer that tells of a refusal or that there is none");
         List<Call> none = List.of(
                 call("rubs()", TypeAtNight::rubs, -2),
@@ -326,7 +326,7 @@ final class EdgesOfRefusals {
         return x;
     }
 
-    private static void rowStaysWithoutRefusal(Edges doc) {
+    private static void rowStaysWithoutRefusal(Document doc) {
         doc.terms("and with calls that do not tell of it.");
         TypeAtNight x = RICH.get();
         Calls.put(x, "").law();

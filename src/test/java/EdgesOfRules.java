@@ -7,7 +7,7 @@ final class EdgesOfRules {
     private EdgesOfRules() {
     }
 
-    static void all(Edges doc) {
+    static void all(Document doc) {
         ruleAtFirst(doc);
         comparisons(doc);
         sums(doc);
@@ -34,7 +34,7 @@ final class EdgesOfRules {
         Calls.faults("rule", FOUR, TypeAtNight::rule, -1, rulesAndPlaces);
     }
 
-    private static void ruleAtFirst(Edges doc) {
+    private static void ruleAtFirst(Document doc) {
         doc.terms("THE RULE is a text of at most 40 signs (at first none: (b/k-m)/2).");
         // One alone has no others, so b by k is 0.
         Calls.each("TURN at first", Calls.with("a0+9;a0-4;b0+5;c0-5;d0+1"), 5, 10 - 6, 10 + 6, 10 - 2, 10 + 2, 10);
@@ -45,7 +45,7 @@ final class EdgesOfRules {
         faults("--" + thirtyNine, 40);
     }
 
-    private static void comparisons(Edges doc) {
+    private static void comparisons(Document doc) {
         doc.terms("EXPRESSION: < > = bind least (two; 1 or 0; not one behind the other)");
         turns("1<2", 1, "2<2", 0, "3<2", 0, "2>1", 1, "2>2", 0, "2>3", 0, "2=2", 1, "2=3", 0, "3=2", 0);
         turns("1+0<1", 0, "5=5+1", 0, "1>0*9", 1, "4-3=1", 1, "-1<0", 1);
@@ -54,13 +54,13 @@ final class EdgesOfRules {
                 "<1", 0, "1<<2", 2, "1<=2", 2);
     }
 
-    private static void sums(Edges doc) {
+    private static void sums(Document doc) {
         doc.terms("then + - (from the left)");
         turns("7-2-1", 4, "7-2+1", 6, "1-2+3-4", -2, "9-3*2", 3, "3*2-9", -3);
         faults("+1", 0, "1+", 2, "1++2", 2, "1-+2", 2, "1+", 2, "1-", 2);
     }
 
-    private static void products(Edges doc) {
+    private static void products(Document doc) {
         doc.terms("then * / (from the left; by 0: 0; cut to 0)");
         turns("8/2/2", 2, "8/4*2", 4, "3*5/2", 7, "9/2*2", 8);
         turns("7/0", 0, "0/0", 0, "-7/0", 0, "7/(m-5)", 0, "7/0+1", 1, "7/(b+2)*3", 0);
@@ -68,7 +68,7 @@ final class EdgesOfRules {
         faults("*1", 0, "/1", 0, "1*", 2, "1/", 2, "1**2", 2, "1//2", 2, "1*+2", 2);
     }
 
-    private static void minus(Edges doc) {
+    private static void minus(Document doc) {
         doc.terms("then - ahead of a thing (any many)");
         turns("-5", -5, "--5", 5, "---5", -5, "-".repeat(38) + "5", 5, "-".repeat(39) + "5", -5);
         turns("2*-3", -6, "-2*-3", 6, "0--3", 3, "0---3", -3, "-m-m", -9, "-(m-3)", -2, "-2+5", 3, "1<-2", 0,
@@ -76,13 +76,13 @@ final class EdgesOfRules {
         faults("-", 1, "--", 2, "(-", 2, "(-)", 2, "-*2", 1, "-+2", 1);
     }
 
-    private static void numbers(Edges doc) {
+    private static void numbers(Document doc) {
         doc.terms("a NUMBER of 1 to 3 digits");
         turns("5", 5, "05", 5, "005", 5, "0", 0, "000", 0, "100-93", 7, "999-992", 7, "99-91", 8);
         faults("0005", 3, "1000", 3, "1+1000", 5, "12m", 2, "(1234)", 4);
     }
 
-    private static void brackets(Edges doc) {
+    private static void brackets(Document doc) {
         doc.terms("an EXPRESSION in ( ) (at most 4 in one another)");
         turns("((((5))))", 5, "-(-(-(-(5))))", 5, "((((1))))+((((2))))", 3, "(1+(1+(1+(1+1))))", 5,
                 "(((1))+(((1))))", 2, "((((5)+(1))))", 6);
@@ -90,7 +90,7 @@ final class EdgesOfRules {
         faults("()", 1, "(", 1, "((((", 4, "(5", 2, "((5)", 4, "5)", 1, "(5))", 3, "(5)(5)", 3, "2(5)", 1, "(5)2", 3);
     }
 
-    private static void othersInBox(Edges doc) {
+    private static void othersInBox(Document doc) {
         doc.terms("and, of a SORT: m MOOD, w WEAR, l its LETTER, k how many others are in its BOX, b MOODS of these "
                 + "together, i its number");
         turns("m", 5, "w", 3, "l", 1, "k", 2, "b", -2, "i", 0);
@@ -106,7 +106,7 @@ final class EdgesOfRules {
         faults("a", 0, "M", 0, "mm", 1, "m w", 1, " m", 0, "j", 0, "c", 0, "x", 0, "m;", 1);
     }
 
-    private static void numberAndNight(Edges doc) {
+    private static void numberAndNight(Document doc) {
         doc.terms("n NIGHT by 7 (rest)");
         TypeAtNight x = Calls.with("a0+0", "n");
         for (int night = 0; night <= 15; night++) {
@@ -115,7 +115,7 @@ final class EdgesOfRules {
         }
     }
 
-    private static void asInts(Edges doc) {
+    private static void asInts(Document doc) {
         doc.terms("As ints, put to -9 .. 9: TURN.");
         turns("8", 8, "9", 9, "10", 9, "999", 9, "-8", -8, "-9", -9, "-10", -9, "-999", -9);
         // 999 * 999 * 999 * 3 goes beyond the greatest int; 512 * 512 * 512 * 16 comes out as the least, also by -1.

@@ -11,7 +11,7 @@ final class EdgesOfSorts {
     private EdgesOfSorts() {
     }
 
-    static void all(Edges doc) {
+    static void all(Document doc) {
         newObject(doc);
         sign(doc);
         end(doc);
@@ -40,7 +40,7 @@ final class EdgesOfSorts {
         };
     }
 
-    private static void newObject(Edges doc) {
+    private static void newObject(Document doc) {
         doc.promise(1, "No SORTS.");
         TypeAtNight x = new TypeAtNight();
         Calls.due("SORTS", x.count(0), 0);
@@ -53,7 +53,7 @@ final class EdgesOfSorts {
         }
     }
 
-    private static void sign(Edges doc) {
+    private static void sign(Document doc) {
         doc.promise(2, "Four signs come behind THE TEXT, of v the highest byte first: how many it has. Refused: "
                 + "there would be more than 80.");
         TypeAtNight x = Calls.with("a0+0;b0+0;c0+0;d0+0");
@@ -78,7 +78,7 @@ final class EdgesOfSorts {
         Calls.due("of v the highest byte first", x.sets(0), 5);
     }
 
-    private static void end(Edges doc) {
+    private static void end(Document doc) {
         doc.promise(3, "THE TEXT has its first n signs alone: true; false if it has not so many, or n is below 0.");
         TypeAtNight x = Calls.with("a0+0;b0+0;c0+0;d0+0");
         Calls.due("end(0) of none", x.end(0), true);
@@ -97,7 +97,7 @@ final class EdgesOfSorts {
         Calls.due("end(1) of what was read", x.end(1), false);
     }
 
-    private static void noLines(Edges doc) {
+    private static void noLines(Document doc) {
         doc.promise(4, "THE TEXT tells of SORTS (an empty one: nothing): how many LINES.");
         for (int sorts : new int[] {0, 1, 12}) {
             Calls.refused("sorts with " + sorts, having(sorts), "", SORTS, 0);
@@ -106,7 +106,7 @@ final class EdgesOfSorts {
         Calls.due("twelve LINES", Calls.put(new TypeAtNight(), TWELVE).sorts(), 12);
     }
 
-    private static void linesThatCantStand(Edges doc) {
+    private static void linesThatCantStand(Document doc) {
         doc.promise(4, "-1 - p: the sign at p can't stand there (its end, if it ends too early; 59, if it has more "
                 + "and the first 59 could go on or end; the first sign of a LINE for which there is no room).");
         Calls.faults("sorts that end too early", NONE, SORTS, -1, "a", 1, "a0", 2, "a0+", 3, "a0+0;", 5, "a0+0;a", 6,
@@ -124,7 +124,7 @@ final class EdgesOfSorts {
         Calls.due("eleven more", Calls.put(having(1).get(), TWELVE.substring(5)).sorts(), 11);
     }
 
-    private static void nothingComes(Edges doc) {
+    private static void nothingComes(Document doc) {
         doc.promise(4, "Nothing of it comes, if a LINE can't.");
         for (String text : new String[] {"b1+1;c2+2;d3+x", "b1+1;c2+2;", "b1+1;c2+2;d3", "b1+1;c2+2;" + TWELVE}) {
             TypeAtNight x = having(1).get();
@@ -136,7 +136,7 @@ final class EdgesOfSorts {
         }
     }
 
-    private static void noRule(Edges doc) {
+    private static void noRule(Document doc) {
         doc.promise(5, "THE TEXT is THE RULE (an empty one: none): 0.");
         TypeAtNight x = Calls.with("a0+9;a0-4;b0+5", "7");
         Calls.due("rule, empty", Calls.put(x, "").rule(), 0);
@@ -145,7 +145,7 @@ final class EdgesOfSorts {
         Calls.each("TURN by none", x, 5, 4, 16, 8);
     }
 
-    private static void rulesThatCantStand(Edges doc) {
+    private static void rulesThatCantStand(Document doc) {
         doc.promise(5, "-1 - p: the sign at p can't stand there (its end, if it ends too early");
         Calls.faults("rule", having(2), RULE, -1, "-", 1, "(", 1, "m+", 2, "m<", 2, "(m", 2, "((m)", 4, "m*(", 3,
                 "m/-", 3);
@@ -153,7 +153,7 @@ final class EdgesOfSorts {
                 "m m", 1, "5m", 1, "m5", 1, "1234", 3, "m<w=l", 3, "(((((", 4);
     }
 
-    private static void rulesTooLong(Edges doc) {
+    private static void rulesTooLong(Document doc) {
         doc.promise(5, "40, if it has more and the first 40 could go on or end).");
         String full = "m" + "+m".repeat(19);
         String open = "((-" + full.substring(2);
@@ -162,6 +162,10 @@ final class EdgesOfSorts {
         Calls.due("rule of forty", Calls.put(having(1).get(), forty).rule(), 0);
         Calls.faults("rule of more than 40 that could end", having(2), RULE, -1, forty + "m", 40, forty + "x", 40,
                 forty + "+m", 40, forty + "+(", 40, forty + ")", 40, forty + "<<", 40, "-".repeat(37) + "1234", 40);
+        for (int sign = 0; sign < 256; sign++) {
+            Calls.faults("rule of more than 40, by each sign", having(2), RULE, -1, forty + (char) sign, 40,
+                    forty + (char) sign + "m", 40, full + "+" + (char) sign + "m", 40);
+        }
         Calls.faults("rule of more than 40 that could go on", having(2), RULE, -1, "-".repeat(40) + "(", 40,
                 "-".repeat(40) + "((", 40, "-".repeat(40) + "m", 40, "-".repeat(80), 40, "(" + full + ")", 40,
                 open + ")x", 40, open + "))", 40, full + "+((", 40, full + "++", 40);
@@ -171,7 +175,7 @@ final class EdgesOfSorts {
                 "(" + full, 40);
     }
 
-    private static void sort(Edges doc) {
+    private static void sort(Document doc) {
         doc.promise(6, "NoSuchElementException: none such, another what.");
         for (int sorts : new int[] {0, 1, 11, 12}) {
             TypeAtNight x = having(sorts).get();
@@ -198,7 +202,7 @@ final class EdgesOfSorts {
         }
     }
 
-    private static void box(Edges doc) {
+    private static void box(Document doc) {
         doc.promise(7, "NoSuchElementException: none such, another what.");
         TypeAtNight x = having(12).get();
         for (int box : new int[] {-1, 8, Integer.MIN_VALUE, Integer.MAX_VALUE}) {
@@ -228,7 +232,7 @@ final class EdgesOfSorts {
         Calls.each(call, x, 1, wears);
     }
 
-    private static void entries(Edges doc) {
+    private static void entries(Document doc) {
         doc.promise(8, "WEAR of SORTS 0, 1, .., as a sheet tells it: bytes (kind 0), shorts (1), ints (2) of n "
                 + "entries f, f + step, .. (of bytes, shorts the lowest bits, with their sign; put to 0 .. 9)");
         TypeAtNight x = Calls.with("a5+0;b5+0;c5+0;d5+0");
@@ -251,7 +255,7 @@ final class EdgesOfSorts {
         sheet(x, 0, 4, 1, Integer.MIN_VALUE, 1, 1, 1, 1);
     }
 
-    private static void fewAndManyEntries(Edges doc) {
+    private static void fewAndManyEntries(Document doc) {
         doc.promise(8, "or a missing one (3): those behind it have 0: the sum of all.");
         TypeAtNight x = Calls.with("a5+0;b5+0;c5+0");
         sheet(x, 2, 0, 7, 7, 0, 0, 0);
@@ -269,7 +273,7 @@ final class EdgesOfSorts {
         Calls.due("one that comes behind it", none.sort(0, 1), 3);
     }
 
-    private static void sheetUndone(Edges doc) {
+    private static void sheetUndone(Document doc) {
         doc.promise(8, "Nothing is kept of it that could be undone (an undo() behind it brings WEAR back, too, as it "
                 + "was ahead of what is undone).");
         TypeAtNight x = Calls.with("a5+0;b6+0");
@@ -286,7 +290,7 @@ final class EdgesOfSorts {
         Calls.each("WEAR as it was ahead of moves", x, 1, 1, 2);
     }
 
-    private static void sheetBelowNone(Edges doc) {
+    private static void sheetBelowNone(Document doc) {
         doc.promise(8, "-2: n below 0 (of kinds 0 .. 2; nothing changes)");
         Supplier<TypeAtNight> three = () -> Calls.with("a5+0;b6+0;c7+0");
         for (int kind = 0; kind <= 2; kind++) {
@@ -297,7 +301,7 @@ final class EdgesOfSorts {
         }
     }
 
-    private static void sheetMissing(Edges doc) {
+    private static void sheetMissing(Document doc) {
         doc.promise(8, "-3: missing (all 0).");
         for (int n : new int[] {Integer.MIN_VALUE, -1, 0, 1, 12}) {
             TypeAtNight x = Calls.with("a9+0" + ";a9+0".repeat(11));
@@ -307,7 +311,7 @@ final class EdgesOfSorts {
         Calls.due("sheet(3, 0) without SORTS", new TypeAtNight().sheet(3, 0, 0, 0), -3);
     }
 
-    private static void sheetRefused(Edges doc) {
+    private static void sheetRefused(Document doc) {
         doc.promise(8, "NONE: another kind, n above 12 (these first).");
         Supplier<TypeAtNight> three = () -> Calls.with("a5+0;b6+0;c7+0");
         Calls.others("sheet of 1", three, "", (x, kind) -> x.sheet(kind, 1, 1, 1), 0, 3, -1);

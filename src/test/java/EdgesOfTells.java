@@ -11,7 +11,7 @@ final class EdgesOfTells {
     private EdgesOfTells() {
     }
 
-    static void all(Edges doc) {
+    static void all(Document doc) {
         tells(doc);
         often(doc);
         shortest(doc);
@@ -30,7 +30,7 @@ final class EdgesOfTells {
                 "h".repeat(13), 12, "h".repeat(12) + "x", 12, "a".repeat(80), 12);
     }
 
-    private static void tells(Edges doc) {
+    private static void tells(Document doc) {
         doc.promise(16, "-1 - p: as sets(). -101: there are not SORTS enough.");
         ToIntFunction<TypeAtNight> tells = TypeAtNight::tells;
         asSets("tells", tells);
@@ -46,7 +46,7 @@ final class EdgesOfTells {
         Calls.question("tells, one is STANDING", STANDING, "a", tells, 198, 2);
     }
 
-    private static void often(Edges doc) {
+    private static void often(Document doc) {
         doc.promise(17, "How often THE TEXT can be SET one behind the other now, before a NIGHT: how often; the ROW: "
                 + "LETTERS of it (bits) that are not there for one more time. -1 - p: as sets().");
         ToIntFunction<TypeAtNight> often = TypeAtNight::often;
@@ -62,7 +62,7 @@ final class EdgesOfTells {
         Calls.question("often, one is STANDING", STANDING, "ab", often, 1, 3);
     }
 
-    private static void shortest(Edges doc) {
+    private static void shortest(Document doc) {
         doc.promise(18, "The LETTER of which the fewest SORTS are not STANDING: of equal ones the first: it; the "
                 + "ROW: how many, how many there are of it in all.");
         ToIntFunction<TypeAtNight> shortest = TypeAtNight::shortest;
@@ -77,7 +77,7 @@ final class EdgesOfTells {
                 shortest, 7, 0, 0);
     }
 
-    private static void bearsOfRange(Edges doc) {
+    private static void bearsOfRange(Document doc) {
         doc.promise(19, "so that their MOODS together are v (-108 .. 108): by how many");
         Calls.question("bears(-108)", TWELVE, "h".repeat(12), x -> x.bears(-108), 1, 4095);
         Calls.question("bears(108)", HIGH, "h".repeat(12), x -> x.bears(108), 1, 4095);
@@ -86,7 +86,7 @@ final class EdgesOfTells {
         Calls.question("bears(9)", HIGH, "h", x -> x.bears(9), 12, 1);
     }
 
-    private static void bearsWithout(Edges doc) {
+    private static void bearsWithout(Document doc) {
         doc.promise(19, "the ROW: the least (bits; nothing without).");
         Calls.question("bears(0), none", FOUR, "a", x -> x.bears(0), 0);
         Calls.question("bears(2), too few", FOUR, "aaa", x -> x.bears(2), 0);
@@ -97,7 +97,7 @@ final class EdgesOfTells {
                 6);
     }
 
-    private static void bearsRefused(Edges doc) {
+    private static void bearsRefused(Document doc) {
         doc.promise(19, "-1 - p: as sets(); -100: another v.");
         asSets("bears(0)", x -> x.bears(0));
         asSets("bears(109)", x -> x.bears(109));
@@ -105,7 +105,7 @@ final class EdgesOfTells {
         Calls.others("bears, too few", FOUR, "h", (x, v) -> x.bears(v), -108, 108, -100);
     }
 
-    private static void spans(Edges doc) {
+    private static void spans(Document doc) {
         doc.promise(20, "200 and the least; the ROW: 200 and the greatest, then both sets (bits; of like ones the "
                 + "least). -1 - p: as sets(). -101: there are not SORTS enough.");
         ToIntFunction<TypeAtNight> spans = TypeAtNight::spans;
@@ -122,7 +122,7 @@ final class EdgesOfTells {
         Calls.refused("spans without SORTS", TypeAtNight::new, "a", spans, -101);
     }
 
-    private static void words(Edges doc) {
+    private static void words(Document doc) {
         doc.promise(21, "THE TEXT tells words of letters a .. h (at least one each), ; between (at most 8, 60 signs)");
         ToIntFunction<TypeAtNight> packs = TypeAtNight::packs;
         Calls.question("packs of one letter", FOUR, "a", packs, 1, 1);
@@ -133,7 +133,7 @@ final class EdgesOfTells {
         Calls.question("packs of thirteen letters", TWELVE, "h".repeat(13) + ";h", packs, 1, 2);
     }
 
-    private static void wordsAtOnce(Edges doc) {
+    private static void wordsAtOnce(Document doc) {
         doc.promise(21, "the most words that can be SET at once now: how many; the ROW: they (bits; of as many the "
                 + "least).");
         ToIntFunction<TypeAtNight> packs = TypeAtNight::packs;
@@ -146,7 +146,7 @@ final class EdgesOfTells {
         Calls.question("packs, one is STANDING", STANDING, "a;a;c;b", packs, 2, 9);
     }
 
-    private static void wordsThatCantStand(Edges doc) {
+    private static void wordsThatCantStand(Document doc) {
         doc.promise(21, "-1 - p: the sign at p can't stand there (its end, if it ends too early; the ninth word: at "
                 + "its first sign; 60, if it has more and the first 60 could go on or end).");
         ToIntFunction<TypeAtNight> packs = TypeAtNight::packs;

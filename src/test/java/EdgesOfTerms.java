@@ -7,7 +7,7 @@ final class EdgesOfTerms {
     private EdgesOfTerms() {
     }
 
-    static void all(Edges doc) {
+    static void all(Document doc) {
         calls(doc);
         face(doc);
         letters(doc);
@@ -23,7 +23,7 @@ final class EdgesOfTerms {
         stillInBoxes(doc);
     }
 
-    private static void calls(Edges doc) {
+    private static void calls(Document doc) {
         doc.section("What it is", "An object is used for at most 512 calls after it has been made");
         TypeAtNight nights = new TypeAtNight();
         for (int call = 1; call < 512; call++) {
@@ -39,7 +39,7 @@ final class EdgesOfTerms {
         Calls.due("call 512, undo", moved.undo(), 11);
     }
 
-    private static void face(Edges doc) {
+    private static void face(Document doc) {
         doc.section("The public face", "public static final int NONE = -1;");
         Calls.due("NONE", TypeAtNight.NONE, -1);
         doc.section("The public face", "public TypeAtNight();");
@@ -52,7 +52,7 @@ final class EdgesOfTerms {
         return one.count(0) + " " + other.count(0);
     }
 
-    private static void letters(Edges doc) {
+    private static void letters(Document doc) {
         doc.terms("LETTERS 0 .. 7 (a .. h), BOXES 0 .. 7 (the BOX of a LETTER has its number).");
         TypeAtNight x = Calls.with("a0+0;b0+0;c0+0;d0+0;e0+0;f0+0;g0+0;h0+0");
         Calls.each("LETTERS", x, 0, 0, 1, 2, 3, 4, 5, 6, 7);
@@ -62,7 +62,7 @@ final class EdgesOfTerms {
         Calls.faults("sorts", TypeAtNight::new, TypeAtNight::sorts, -1, "`0+0", 0, "i0+0", 0, "H0+0", 0);
     }
 
-    private static void sorts(Edges doc) {
+    private static void sorts(Document doc) {
         doc.terms("SORTS 0 .. (at most 12): a LETTER, WEAR 0 .. 9, MOOD -9 .. 9, a BOX (at first that of its "
                 + "LETTER), STANDING (in a text) or not (at first not).");
         TypeAtNight x = Calls.with("c0-9;h9+9");
@@ -76,7 +76,7 @@ final class EdgesOfTerms {
         Calls.refused("a thirteenth", () -> Calls.with(TWELVE), "a0+0", TypeAtNight::sorts, -1);
     }
 
-    private static void lines(Edges doc) {
+    private static void lines(Document doc) {
         doc.terms("They are told by a text of at most 59 signs: LINES with ; between, each one more: a letter a .. "
                 + "h, a digit (WEAR), + or -, a digit (MOOD).");
         Calls.due("signs of twelve LINES", TWELVE.length(), 59);
@@ -89,13 +89,13 @@ final class EdgesOfTerms {
                 "a0*0", 2, "a0+/", 3, "a0+:", 3, "a0+0:", 4, "a0+0,b0+0", 4);
     }
 
-    private static void night(Edges doc) {
+    private static void night(Document doc) {
         doc.terms("NIGHT (at first 0).");
         Calls.due("NIGHT", new TypeAtNight().count(1), 0);
         Calls.due("n of THE RULE", Calls.with("a0+0", "n=0").sort(0, 5), 11);
     }
 
-    private static void set(Edges doc) {
+    private static void set(Document doc) {
         doc.terms("A text of 1 to 12 letters a .. h is SET with a FEELING (-9 .. 9)");
         Supplier<TypeAtNight> twelve = () -> Calls.with(TWELVE);
         Calls.refused("none", twelve, "", x -> x.sets(0), -1);
@@ -107,7 +107,7 @@ final class EdgesOfTerms {
         Calls.faults("sets", twelve, x -> x.sets(0), -1, "`", 0, "i", 0, "a`", 1, "ai", 1);
     }
 
-    private static void taken(Edges doc) {
+    private static void taken(Document doc) {
         doc.terms("its letters, one behind the other, take each the SORT of that LETTER that is not STANDING (also "
                 + "not by this text) and has the least WEAR (of like ones the first)");
         Supplier<TypeAtNight> four = () -> Calls.with("a2+0;a1+0;b0+0;a1+0");
@@ -121,7 +121,7 @@ final class EdgesOfTerms {
         Calls.due("there are but three", Calls.put(four.get(), "aaaa").sets(0), -101);
     }
 
-    private static void worn(Edges doc) {
+    private static void worn(Document doc) {
         doc.terms("each that is taken is STANDING from then on, its WEAR is 1 more (9 at most), its MOOD FEELING "
                 + "more (put to -9 .. 9).");
         TypeAtNight x = Calls.with("a7+0;b8+1;c9+8;d9+9;e0-1");
@@ -138,7 +138,7 @@ final class EdgesOfTerms {
         Calls.each("MOOD", far, 2, 10, 10);
     }
 
-    private static void distributed(Edges doc) {
+    private static void distributed(Document doc) {
         doc.terms("(1) each that is STANDING is not any more, and goes to the BOX of its LETTER, but one of WEAR 9 "
                 + "to the next BOX (behind 7: 0).");
         TypeAtNight x = Calls.with("h9+0;g8+0;a9+0;c7+0;d9+0;e0+0", "0");
@@ -161,7 +161,7 @@ final class EdgesOfTerms {
         Calls.due("BOX of one that is there already", x.sort(1, 3), 7);
     }
 
-    private static void turned(Edges doc) {
+    private static void turned(Document doc) {
         doc.terms("(2) all as all is then: MOOD of each is TURN more (put to -9 .. 9).");
         TypeAtNight sums = Calls.with("a0+1;a0+2;a0+3", "b");
         sums.nights(1);
@@ -180,7 +180,7 @@ final class EdgesOfTerms {
         Calls.each("BOXES as they are behind (1)", home, 2, 14, 13, 13);
     }
 
-    private static void nightsCounted(Edges doc) {
+    private static void nightsCounted(Document doc) {
         doc.terms("(3) NIGHT is 1 more.");
         TypeAtNight x = Calls.with("a0+0", "n+1");
         x.nights(1);
@@ -191,7 +191,7 @@ final class EdgesOfTerms {
         Calls.due("MOOD by NIGHT as it was", x.sort(0, 2), 13);
     }
 
-    private static void stillInBoxes(Edges doc) {
+    private static void stillInBoxes(Document doc) {
         doc.terms("(SORTS that are STANDING are still in the BOX where they were, for all that asks of BOXES ahead "
                 + "of it.)");
         TypeAtNight x = Calls.with("a9+4;b0-2;b0+3", "k*3+b");

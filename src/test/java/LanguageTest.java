@@ -34,7 +34,7 @@ public final class LanguageTest {
         names();
         sizes();
         words(stripped(source));
-        lengths(source);
+        methods(source);
         Calls.close("LanguageTest");
     }
 
@@ -135,18 +135,24 @@ public final class LanguageTest {
         }
     }
 
-    /** A method ends with the bracket that stands as far in as its head. */
-    private static void lengths(String source) {
+    /** A method ends with the bracket that stands as far in as its head; one that calls itself is private and static. */
+    private static void methods(String source) {
         String[] lines = source.split("\n");
-        Pattern head = Pattern.compile("^( {4}| {8})(?!.*\\b(class|new|return|if|for|while|switch)\\b)\\S.*\\) ?(throws \\w+ )?\\{$");
+        Pattern heads = Pattern.compile("^( {4}| {8})(?!.*\\b(class|new|return|if|for|while|switch)\\b)\\S.*\\) ?(throws \\w+ )?\\{$");
         for (int from = 0; from < lines.length; from++) {
-            Matcher m = head.matcher(lines[from]);
+            Matcher m = heads.matcher(lines[from]);
             if (m.matches()) {
                 int to = from;
                 while (!lines[to].equals(m.group(1) + "}")) {
                     to++;
                 }
-                Calls.due("lines of " + lines[from].trim(), to - from + 1 <= MOST_LINES, true);
+                String head = lines[from].trim();
+                Calls.due("lines of " + head, to - from + 1 <= MOST_LINES, true);
+                String name = head.replaceAll("\\(.*", "").replaceAll(".* ", "");
+                String body = String.join("\n", Arrays.copyOfRange(lines, from + 1, to));
+                boolean callsItself = Pattern.compile("(?<![.\\w])" + name + "\\(").matcher(body).find();
+                Calls.due("calls itself, not private and static: " + head,
+                        callsItself && !head.startsWith("private static "), false);
             }
         }
     }

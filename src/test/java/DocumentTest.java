@@ -1,9 +1,11 @@
 import java.io.IOException;
 
-/** Each sentence of the document that names an edge, quoted and tested; run from the project's root. */
-public final class EdgesTest {
+/** Each sentence of the document, quoted and tested; run from the project's root. */
+public final class DocumentTest {
     public static void main(String[] args) throws IOException {
-        Edges doc = new Edges();
+        Document doc = new Document();
+        SentencesOfFace.all(doc);
+        SentencesOfCalls.all(doc);
         EdgesOfTerms.all(doc);
         EdgesOfRules.all(doc);
         EdgesOfRefusals.all(doc);
@@ -16,6 +18,6 @@ public final class EdgesTest {
         EdgesOfChances.all(doc);
         EdgesOfKept.all(doc);
         doc.noneLeftOut();
-        Calls.close("EdgesTest");
+        Calls.close("DocumentTest");
     }
 }
